@@ -1,3 +1,4 @@
+import java.util.Arrays;
 import java.util.Random;
 import java.util.concurrent.Callable;
 
@@ -10,11 +11,13 @@ public final class PlainTest {
     private final Stringdrawer drawer = new Stringdrawer();
     private final Plain plain = new Plain();
     private final StringBuilder log = new StringBuilder();
+    private final int[] origins = new int[60];
     private final int flavour;
 
     private PlainTest(long seed) {
         random = new Random(seed);
-        flavour = random.nextInt(4);
+        flavour = random.nextInt(8);
+        Arrays.fill(origins, -1);
         log.append("seed ").append(seed).append(": ");
     }
 
@@ -28,15 +31,48 @@ public final class PlainTest {
     }
 
     private void run() {
+        if (flavour > 3) {
+            prepare();
+        }
         int calls = 60 + random.nextInt(200);
         for (int call = 0; call < calls; call++) {
-            if (random.nextInt(3) > 0) {
+            if (flavour > 3 ? random.nextInt(6) == 0 && plain.diagrams() < 50
+                    : random.nextInt(3) > 0) {
                 build();
             } else {
                 ask();
             }
         }
         compareAll();
+    }
+
+    /** Makes pieces with as many inputs as outputs, and rules of them, so that much can match. */
+    private void prepare() {
+        String kinds = random.nextBoolean() ? "camsduzn23" : "ca23ms16du";
+        for (char kind : kinds.toCharArray()) {
+            due("box " + kind, () -> plain.box(kind), () -> drawer.box(kind));
+        }
+        due("wires 1", () -> plain.wires(1), () -> drawer.wires(1));
+        due("crossing 1 1", () -> plain.crossing(1, 1), () -> drawer.crossing(1, 1));
+        int edge = 1 + random.nextInt(2);
+        for (int attempt = 0; attempt < 3000 && plain.diagrams() < 38; attempt++) {
+            int a = random.nextInt(plain.diagrams());
+            int b = random.nextInt(plain.diagrams());
+            int most = random.nextInt(4) == 0 ? 12 : 3;
+            boolean small = size(a) + size(b) <= most && size(a) + size(b) > 0;
+            boolean square = plain.inputs(a) == edge && plain.outputs(b) == edge;
+            if (small && square && plain.outputs(a) == plain.inputs(b)) {
+                due("then " + a + " " + b, () -> plain.then(a, b), () -> drawer.then(a, b));
+            } else if (small && edge == 2 && random.nextInt(4) == 0
+                    && plain.inputs(a) + plain.inputs(b) == 2
+                    && plain.outputs(a) + plain.outputs(b) == 2) {
+                due("beside " + a + " " + b, () -> plain.beside(a, b), () -> drawer.beside(a, b));
+            }
+        }
+        int wanted = 1 + random.nextInt(8);
+        for (int attempt = 0; attempt < 300 && plain.rules() < wanted; attempt++) {
+            makeRule();
+        }
     }
 
     private void due(String what, Callable<?> model, Callable<?> program) {
@@ -151,7 +187,8 @@ public final class PlainTest {
         int r = rule();
         int x = random.nextInt(5) - (random.nextInt(20) == 0 ? 1 : 0);
         int y = random.nextInt(4) - (random.nextInt(20) == 0 ? 1 : 0);
-        switch (random.nextInt(20)) {
+        switch (flavour > 3 && random.nextInt(3) > 0 ? 9 + random.nextInt(11)
+                : random.nextInt(20)) {
             case 0 -> due("kindAt " + a + " " + x, () -> plain.kindAt(a, x),
                     () -> drawer.kindAt(a, x));
             case 1 -> due("source " + a + " " + (x - 1) + " " + y,
@@ -172,10 +209,8 @@ public final class PlainTest {
                     () -> drawer.matches(a, r));
             case 11 -> due("broken " + a + " " + r, () -> plain.broken(a, r),
                     () -> drawer.broken(a, r));
-            case 12, 13 -> due("image " + a + " " + r + " " + x + " " + y,
-                    () -> plain.image(a, r, x, y), () -> drawer.image(a, r, x, y));
-            case 14, 15 -> due("rewrite " + a + " " + r + " " + y, () -> plain.rewrite(a, r, y),
-                    () -> drawer.rewrite(a, r, y));
+            case 12, 13 -> matchAnd(false, a, r, x, y);
+            case 14, 15 -> matchAnd(true, a, r, x, y);
             case 16 -> {
                 int most = random.nextInt(10) == 0 ? 29 + random.nextInt(3) : x + y;
                 due("simplify " + a + " " + most, () -> plain.simplify(a, most),
@@ -187,30 +222,80 @@ public final class PlainTest {
         }
     }
 
-    private void askRow(int a, int output) {
-        if (random.nextInt(6) == 0) {
-            due("erase", plain::erase, drawer::erase);
-        } else if (random.nextBoolean()) {
-            due("holds " + a, () -> plain.holds(a), () -> drawer.holds(a));
+    /** Looks for a diagram in which a rule has matches, then asks for an image or rewrites. */
+    private void matchAnd(boolean rewrites, int diagram, int rule, int match, int box) {
+        int a = diagram;
+        int r = rule;
+        for (int attempt = 0; attempt < 20 && plain.rules() > 0 && !hasMatch(a, r); attempt++) {
+            a = diagram();
+            r = rule();
+        }
+        int d = a;
+        int f = r;
+        int m = hasMatch(a, r) && random.nextInt(8) > 0 ? random.nextInt(plain.matches(a, r)) : match;
+        if (rewrites) {
+            int were = plain.diagrams();
+            due("rewrite " + d + " " + f + " " + m, () -> plain.rewrite(d, f, m),
+                    () -> drawer.rewrite(d, f, m));
+            if (plain.diagrams() > were) {
+                origins[were] = d;
+            }
         } else {
-            due("value " + a + " " + output, () -> plain.value(a, output),
-                    () -> drawer.value(a, output));
+            due("image " + d + " " + f + " " + m + " " + box, () -> plain.image(d, f, m, box),
+                    () -> drawer.image(d, f, m, box));
         }
     }
 
+    private boolean hasMatch(int diagram, int rule) {
+        return diagram >= 0 && rule >= 0 && diagram < plain.diagrams() && rule < plain.rules()
+                && plain.matches(diagram, rule) > 0;
+    }
+
+    /** Types a row that is as long as is wanted, but for now and then. */
+    private void askRow(int diagram, int output) {
+        int a = diagram;
+        boolean asksValue = random.nextBoolean();
+        for (int attempt = 0; attempt < 10 && asksValue && (a < 0 || a >= plain.diagrams()
+                || !plain.isFunction(a) || plain.outputs(a) == 0); attempt++) {
+            a = diagram();
+        }
+        int d = a;
+        if (d >= 0 && d < plain.diagrams() && random.nextInt(8) > 0) {
+            int wanted = plain.inputs(d) + (asksValue ? 0 : plain.outputs(d));
+            due("erase", plain::erase, drawer::erase);
+            for (int index = 0; index < wanted; index++) {
+                int v = random.nextInt(3) == 0 ? 0 : random.nextInt(7);
+                due("type " + v, () -> plain.type(v), () -> drawer.type(v));
+            }
+        }
+        if (asksValue) {
+            int o = random.nextInt(4) > 0 ? 0 : output;
+            due("value " + d + " " + o, () -> plain.value(d, o), () -> drawer.value(d, o));
+        } else {
+            due("holds " + d, () -> plain.holds(d), () -> drawer.holds(d));
+        }
+    }
+
+    /** Most often looks for a film to a diagram that was made by rewriting. */
     private void reach(int a, int b, int most) {
         int goal = b;
-        for (int attempt = 0; attempt < 10 && size(a) > 0; attempt++) {
-            int other = diagram();
-            boolean fits = other >= 0 && other < plain.diagrams() && a >= 0
-                    && a < plain.diagrams() && plain.inputs(other) == plain.inputs(a)
-                    && plain.outputs(other) == plain.outputs(a);
-            goal = fits ? other : goal;
+        int start = a;
+        for (int attempt = 0; attempt < 20; attempt++) {
+            int other = random.nextInt(60);
+            if (origins[other] >= 0 && random.nextInt(10) > 0) {
+                goal = other;
+                start = origins[other];
+                for (int back = 0; back < random.nextInt(4) && origins[start] >= 0; back++) {
+                    start = origins[start];
+                }
+            }
         }
+        int first = start;
         int second = goal;
-        if (size(a) < 8) {
-            due("reach " + a + " " + second + " " + most, () -> plain.reach(a, second, most),
-                    () -> drawer.reach(a, second, most));
+        if (size(first) < 9) {
+            due("reach " + first + " " + second + " " + most,
+                    () -> plain.reach(first, second, most),
+                    () -> drawer.reach(first, second, most));
         }
     }
 
