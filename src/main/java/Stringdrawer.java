@@ -38,8 +38,8 @@ public final class Stringdrawer {
         'c', 'd', 'a', 'z', 'm', 'u', 's', 'n', '0', '1', '2', '3', '4', '5', '6'};
     private static final int[] INS = {1, 1, 2, 0, 2, 0, 1, 1, 1, 1, 1, 1, 1, 1, 1};
     private static final int[] OUTS = {2, 0, 1, 1, 1, 1, 2, 0, 1, 1, 1, 1, 1, 1, 1};
-    private static final int[] TURNED = {
-        MERGE, ANY, SPLIT, NONE, COPY, DROP, ADD, ZERO, -1, 9, 12, 13, 10, 11, 14};
+    /** The box '0', which can't be turned, stands for itself. */
+    private static final int[] TURNED = {4, 5, 6, 7, 0, 1, 2, 3, 8, 9, 12, 13, 10, 11, 14};
     private static final int[] INVERSES = {0, 1, 4, 5, 2, 3, 6};
 
     private final Diagram[] drawn = new Diagram[MOST_DIAGRAMS];
@@ -212,7 +212,8 @@ public final class Stringdrawer {
     }
 
     public int apart(int first, int second, int column)
-            throws IndexOutOfBoundsException, UnsupportedOperationException, NoSuchElementException {
+            throws IndexOutOfBoundsException, UnsupportedOperationException,
+            NoSuchElementException {
         Diagram one = diagramAt(first);
         Diagram other = diagramAt(second);
         if (!one.hasShapeOf(other)) {
@@ -563,7 +564,7 @@ public final class Stringdrawer {
                 && meaning.matrixOf(first).isSame(meaning.matrixOf(second));
     }
 
-    /** As many rows as inputs, each beginning at an input, leave just one row of outputs to each. */
+    /** As many rows as inputs, all beginning at inputs, leave one row of outputs to each. */
     private boolean computes(Diagram diagram) {
         Grid matrix = meaning.matrixOf(diagram);
         return matrix.rows == diagram.ins
@@ -666,7 +667,9 @@ public final class Stringdrawer {
 
         /** Takes a row out; the last one comes to its place. */
         void remove(int row) {
-            swap(row, rows - 1);
+            for (int column = 0; column < width; column++) {
+                set(row, column, get(rows - 1, column));
+            }
             rows--;
         }
 
@@ -816,7 +819,8 @@ public final class Stringdrawer {
         }
 
         boolean isSource(int code) {
-            return code < 0 ? -1 - code < ins : (code >> 1) < size && (code & 1) < outsOf(code >> 1);
+            int box = code >> 1;
+            return code < 0 ? -1 - code < ins : box < size && (code & 1) < outsOf(box);
         }
 
         boolean hasShapeOf(Diagram other) {
@@ -956,8 +960,8 @@ public final class Stringdrawer {
         }
 
         /**
-         * The columns are the wires, then the inputs and outputs, so that reducing leaves, behind the
-         * conditions of wires, those of the inputs and outputs alone.
+         * The columns are the wires, then the inputs and outputs, so that reducing leaves, behind
+         * the conditions of wires, those of the inputs and outputs alone.
          */
         private void findAtOnce(Diagram diagram) {
             int width = diagram.ins + diagram.outs;
@@ -1154,7 +1158,7 @@ public final class Stringdrawer {
             right = given;
             parts = 0;
             for (int box = 0; box < MOST_BOXES; box++) {
-                partOf[box] = -1;
+                put(partOf, box, -1);
             }
             for (int box = 0; box < left.size; box++) {
                 if (at(partOf, box) < 0) {
@@ -1191,6 +1195,7 @@ public final class Stringdrawer {
      * the order of these rows.
      */
     private static final class Matching {
+        private final int[] paths = new int[MOST_BOXES * MOST_BOXES];
         private final int[] masks = new int[MOST_BOXES * MOST_BOXES];
         private final int[] leaks = new int[MOST_BOXES * MOST_BOXES];
         private final int[] twins = new int[MOST_BOXES];
@@ -1215,7 +1220,6 @@ public final class Stringdrawer {
             for (int part = 0; part < rule.parts && possible; part++) {
                 possible = false;
                 for (int spot = 0; spot < there.size; spot++) {
-                    clearImages();
                     boolean fits = embed(at(rule.roots, part), spot);
                     put(masks, MOST_BOXES * part + spot, fits ? covered : 0);
                     put(leaks, MOST_BOXES * part + spot, fits ? leakOfImages() : 0);
@@ -1225,21 +1229,17 @@ public final class Stringdrawer {
             }
         }
 
-        private void clearImages() {
+        /** Puts the part of the root to the boxes that its wires lead to from the spot. */
+        private boolean embed(int root, int spot) {
             queued = 0;
             covered = 0;
             for (int box = 0; box < MOST_BOXES; box++) {
                 put(images, box, -1);
             }
-        }
-
-        /** Puts the part of the root to the boxes that its wires lead to from the spot. */
-        private boolean embed(int root, int spot) {
-            int head = queued;
             boolean fits = assign(2 * root, 2 * spot);
-            while (fits && head < queued) {
+            for (int head = 0; head < queued && head < MOST_BOXES && fits; head++) {
                 fits = follow(at(queue, head));
-                head++;
+                put(paths, MOST_BOXES * at(queue, head) + spot, at(images, at(queue, head)));
             }
             return fits;
         }
@@ -1421,13 +1421,16 @@ public final class Stringdrawer {
 
         /** Finds the images of all boxes of the left diagram from those of the roots. */
         void lay() {
-            clearImages();
-            for (int part = 0; part < rule.parts; part++) {
-                embed(at(rule.roots, part), at(spots, part));
+            covered = 0;
+            for (int box = 0; box < rule.left.size; box++) {
+                int spot = at(spots, at(rule.partOf, box));
+                int image = at(paths, MOST_BOXES * box + spot);
+                put(images, box, image);
+                covered |= 1 << image;
             }
         }
 
-        /** Rewrites by the match at which this is; the one that is made must not be the one there. */
+        /** Rewrites by the match at which this is; what is made must not be the one there. */
         void rewriteInto(Diagram rewritten) {
             lay();
             rewritten.begin(there.ins, there.outs);
@@ -1507,7 +1510,25 @@ public final class Stringdrawer {
         private Diagram second = new Diagram();
         private int queued;
 
+        /** A part without inputs and outputs can be put to any that is like it. */
         boolean test(Diagram one, Diagram other) {
+            begin(one, other);
+            boolean alike = one.hasShapeOf(other) && one.size == other.size && pairEdges()
+                    && spread(0);
+            for (int box = 0; box < one.size && alike; box++) {
+                alike = at(pairs, box) >= 0;
+                for (int match = 0; match < other.size && !alike; match++) {
+                    int start = queued;
+                    alike = at(backs, match) < 0 && meet(2 * box, 2 * match) && spread(start);
+                    if (!alike) {
+                        takeBack(start);
+                    }
+                }
+            }
+            return alike;
+        }
+
+        private void begin(Diagram one, Diagram other) {
             first = one;
             second = other;
             queued = 0;
@@ -1515,15 +1536,6 @@ public final class Stringdrawer {
                 put(pairs, box, -1);
                 put(backs, box, -1);
             }
-            boolean alike = one.hasShapeOf(other) && one.size == other.size && pairEdges()
-                    && spread(0);
-            for (int box = 0; box < one.size && alike; box++) {
-                alike = at(pairs, box) >= 0;
-                for (int match = 0; match < other.size && !alike; match++) {
-                    alike = pairPart(box, match);
-                }
-            }
-            return alike;
         }
 
         private boolean pairEdges() {
@@ -1533,16 +1545,6 @@ public final class Stringdrawer {
             }
             for (int output = 0; output < first.outs && alike; output++) {
                 alike = meet(first.sourceOf(-1 - output), second.sourceOf(-1 - output));
-            }
-            return alike;
-        }
-
-        /** A part without inputs and outputs can be put to any that is like it. */
-        private boolean pairPart(int box, int other) {
-            int start = queued;
-            boolean alike = at(backs, other) < 0 && meet(2 * box, 2 * other) && spread(start);
-            if (!alike) {
-                takeBack(start);
             }
             return alike;
         }
@@ -1558,7 +1560,7 @@ public final class Stringdrawer {
 
         private boolean spread(int start) {
             boolean alike = true;
-            for (int head = start; head < queued && alike; head++) {
+            for (int head = start; head < queued && head < MOST_BOXES && alike; head++) {
                 int box = at(queue, head);
                 int other = at(pairs, box);
                 for (int way = 0; way < first.insOf(box) && alike; way++) {
@@ -1642,11 +1644,11 @@ public final class Stringdrawer {
         }
     }
 
-    /** Looks for a shortest film: diagrams come in the order of the films that lead to them. */
+    /** Looks for a shortest film: diagrams arrive in the order of the films that lead there. */
     private static final class Search {
         private final Matching matching;
         private final Likeness likeness;
-        private final Diagram[] come = new Diagram[MOST_COME];
+        private final Diagram[] arrived = new Diagram[MOST_COME];
         private final int[] codes = new int[MOST_COME];
         private final int[] parents = new int[MOST_COME];
         private final int[] rules = new int[MOST_COME];
@@ -1659,9 +1661,9 @@ public final class Stringdrawer {
             likeness = usedLikeness;
         }
 
-        /** Returns which one of the diagrams that come is alike the goal, or -1. */
+        /** Returns which one of the diagrams that arrive is alike the goal, or -1. */
         int find(Diagram start, Diagram goal, int most, Rule[] made, int madeCount) {
-            comer(0).copy(start);
+            arrival(0).copy(start);
             put(codes, 0, likeness.summaryOf(start));
             put(lengths, 0, 0);
             count = 1;
@@ -1678,17 +1680,17 @@ public final class Stringdrawer {
 
         private int goOn(int parent, Rule rule, int number, Diagram goal) {
             int found = -1;
-            matching.prepare(comer(parent), rule);
+            matching.prepare(arrival(parent), rule);
             boolean more = matching.isSmall() && matching.first();
             for (int match = 0; match < MOST_MATCHES && more; match++) {
-                matching.rewriteInto(comer(count));
-                put(codes, count, likeness.summaryOf(comer(count)));
+                matching.rewriteInto(arrival(count));
+                put(codes, count, likeness.summaryOf(arrival(count)));
                 if (isNew()) {
                     put(parents, count, parent);
                     put(rules, count, number);
                     put(matches, count, match);
                     put(lengths, count, at(lengths, parent) + 1);
-                    found = likeness.test(comer(count), goal) ? count : -1;
+                    found = likeness.test(arrival(count), goal) ? count : -1;
                     count++;
                 }
                 more = found < 0 && count < MOST_COME && matching.next();
@@ -1700,18 +1702,18 @@ public final class Stringdrawer {
             boolean fresh = true;
             for (int index = 0; index < count && fresh; index++) {
                 fresh = at(codes, index) != at(codes, count)
-                        || !likeness.test(comer(index), comer(count));
+                        || !likeness.test(arrival(index), arrival(count));
             }
             return fresh;
         }
 
         /** Most rooms never look for a film, so that these are made when they are needed. */
-        private Diagram comer(int index) {
+        private Diagram arrival(int index) {
             int place = Math.max(0, Math.min(index, MOST_COME - 1));
-            if (come[place] == null) {
-                come[place] = new Diagram();
+            if (arrived[place] == null) {
+                arrived[place] = new Diagram();
             }
-            return come[place];
+            return arrived[place];
         }
 
         void tell(int found, Film film) {
