@@ -31,7 +31,7 @@ import javax.lang.model.type.TypeKind;
 import javax.tools.JavaCompiler;
 import javax.tools.ToolProvider;
 
-/** Measures src/main/java/Stringdrawer.java against the rules of LANGUAGE.md that can be counted. */
+/** Measures the program against the rules of LANGUAGE.md that can be counted. */
 public final class LanguageTest {
     private static final Set<String> THROWN = Set.of("IllegalStateException",
             "IllegalArgumentException", "IndexOutOfBoundsException", "ArithmeticException",
@@ -74,8 +74,9 @@ public final class LanguageTest {
     private void scan() throws Exception {
         JavaCompiler compiler = ToolProvider.getSystemJavaCompiler();
         var files = compiler.getStandardFileManager(null, null, null);
-        JavacTask task = (JavacTask) compiler.getTask(null, files, null, List.of("-proc:none"), null,
-                files.getJavaFileObjects(Path.of("src/main/java/Stringdrawer.java")));
+        var sources = files.getJavaFileObjects(Path.of("src/main/java/Stringdrawer.java"));
+        JavacTask task = (JavacTask) compiler.getTask(null, files, null, List.of("-proc:none"),
+                null, sources);
         Iterable<? extends CompilationUnitTree> units = task.parse();
         task.analyze();
         Trees trees = Trees.instance(task);
@@ -174,8 +175,9 @@ public final class LanguageTest {
                     method.getSimpleName().contentEquals("<init>") ? "" + face
                             : method.getSimpleName().toString());
             var positions = trees.getSourcePositions();
+            long end = Math.max(0, positions.getEndPosition(unit, tree));
             long from = unit.getLineMap().getLineNumber(positions.getStartPosition(unit, tree));
-            long to = unit.getLineMap().getLineNumber(Math.max(0, positions.getEndPosition(unit, tree)));
+            long to = unit.getLineMap().getLineNumber(end);
             longest = Math.max(longest, (int) (to - from + 1));
             if (tree.getParameters().size() > 7) {
                 fault("more than seven parameters", tree);
@@ -239,7 +241,8 @@ public final class LanguageTest {
             if (type.getKind() == TypeKind.DECLARED) {
                 fault("texts joined by +", tree);
             }
-            boolean divides = tree.getKind() == Tree.Kind.REMAINDER || tree.getKind() == Tree.Kind.DIVIDE;
+            boolean divides = tree.getKind() == Tree.Kind.REMAINDER
+                    || tree.getKind() == Tree.Kind.DIVIDE;
             String divisor = tree.getRightOperand().toString();
             if (divides && !divisor.equals("PRIME") && !divisor.startsWith("(float)")
                     && !divisor.startsWith("(double)")) {
@@ -251,7 +254,8 @@ public final class LanguageTest {
         @Override
         public Void visitNewArray(NewArrayTree tree, Void none) {
             if (!tree.getDimensions().isEmpty()
-                    && !tree.getDimensions().get(0).toString().matches("[A-Z_ *0-9]+|Math\\.max\\(0, .*")) {
+                    && !tree.getDimensions().get(0).toString()
+                            .matches("[A-Z_ *0-9]+|Math\\.max\\(0, .*")) {
                 fault("a length that is no constant", tree);
             }
             return super.visitNewArray(tree, none);

@@ -769,7 +769,8 @@ final class Plain {
         return inside >= 0 ? inside + 2 * kept.size() : entering(d, rule, images, kept, inside);
     }
 
-    private static int entering(D d, D[] rule, List<Integer> images, List<Integer> kept, int input) {
+    private static int entering(D d, D[] rule, List<Integer> images, List<Integer> kept,
+            int input) {
         int target = rule[0].targetOf(input);
         int source = d.from.get(2 * images.get(target / 2) + target % 2);
         return back(d, rule, images, kept, source);

@@ -232,7 +232,8 @@ public final class PlainTest {
         }
         int d = a;
         int f = r;
-        int m = hasMatch(a, r) && random.nextInt(8) > 0 ? random.nextInt(plain.matches(a, r)) : match;
+        boolean some = hasMatch(a, r) && random.nextInt(8) > 0;
+        int m = some ? random.nextInt(plain.matches(a, r)) : match;
         if (rewrites) {
             int were = plain.diagrams();
             due("rewrite " + d + " " + f + " " + m, () -> plain.rewrite(d, f, m),

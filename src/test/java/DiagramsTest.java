@@ -1,0 +1,424 @@
+/** Promises 1 to 14, 36 and 38: how diagrams are made, and what they are made of. */
+public final class DiagramsTest {
+    private static final String INDEX = "throws.IndexOutOfBoundsException";
+    private static final String ARGUMENT = "throws.IllegalArgumentException";
+    private static final String STATE = "throws.IllegalStateException";
+    private static final String UNSUPPORTED = "throws.UnsupportedOperationException";
+    private static final String NO_ELEMENT = "throws.NoSuchElementException";
+    private static final int[] OUTSIDE = {-1, Integer.MIN_VALUE, Integer.MAX_VALUE, 60, 59, 1000};
+
+    public static void main(String[] args) {
+        newObject();
+        box();
+        wires();
+        crossing();
+        then();
+        thenLimits();
+        beside();
+        besideLimits();
+        turn();
+        counts();
+        kindAt();
+        source();
+        depth();
+        alike();
+        alikeParts();
+        Check.end();
+    }
+
+    private static void newObject() {
+        Stringdrawer x = new Stringdrawer();
+        Check.due("1 diagrams", 0, x::diagrams);
+        Check.due("1 rules", 0, x::rules);
+        Check.due("1 steps", 0, x::steps);
+        Check.due("1 allBoxes", 0L, x::allBoxes);
+        Check.due("1 erase", 0, x::erase);
+        Check.due("1 isSound", true, x::isSound);
+        Check.due("1 trueShare", "throws.ArithmeticException", x::trueShare);
+        Check.due("1 meanRank", "throws.ArithmeticException", x::meanRank);
+        Check.due("1 ruleOf", NO_ELEMENT, () -> x.ruleOf(0));
+        Check.due("1 matchOf", NO_ELEMENT, () -> x.matchOf(0));
+        Check.due("1 inputs", INDEX, () -> x.inputs(0));
+        Check.due("1 isTrue", INDEX, () -> x.isTrue(0));
+        Check.due("1 first number", 0, () -> x.wires(0));
+        Check.due("1 holds", true, () -> x.holds(0));
+        Check.due("1 show", 1, () -> x.show(0));
+    }
+
+    private static void box() {
+        Stringdrawer x = new Stringdrawer();
+        String[] due = {"c 1>2 c-1 .0,1", "d 1>0 d-1 .", "a 2>1 a-1,-2 .0", "z 0>1 z .0",
+            "m 2>1 m-1,-2 .0", "u 0>1 u .0", "s 1>2 s-1 .0,1", "n 1>0 n-1 .", "0 1>1 0-1 .0",
+            "1 1>1 1-1 .0", "2 1>1 2-1 .0", "3 1>1 3-1 .0", "4 1>1 4-1 .0", "5 1>1 5-1 .0",
+            "6 1>1 6-1 .0"};
+        for (int kind = 0; kind < due.length; kind++) {
+            int number = kind;
+            String line = due[kind];
+            Check.due("2 box " + line, number, () -> x.box(line.charAt(0)));
+            Check.due("2 box " + line, line.substring(2), () -> Draw.told(x, number));
+        }
+        for (int sign = 0; sign < 70000; sign += sign < 300 ? 1 : 777) {
+            char kind = (char) sign;
+            if ("cdazmusn0123456".indexOf(kind) < 0) {
+                Check.due("2 box " + sign, ARGUMENT, () -> x.box(kind));
+            }
+        }
+        Check.due("2 nothing made", 15, x::diagrams);
+        Draw.fill(x, 59);
+        Check.due("2 box 60", 59, () -> x.box('c'));
+        Check.due("2 box 61", STATE, () -> x.box('c'));
+        Check.due("2 wrong box 61", ARGUMENT, () -> x.box('7'));
+        Check.due("2 nothing made", 60, x::diagrams);
+    }
+
+    private static void wires() {
+        Stringdrawer x = new Stringdrawer();
+        for (int many = 0; many <= 6; many++) {
+            int wanted = many;
+            String ends = ",-1,-2,-3,-4,-5,-6".substring(0, 3 * many);
+            Check.due("3 wires " + many, many, () -> x.wires(wanted));
+            Check.due("3 wires " + many, many + ">" + many + " ."
+                    + (many > 0 ? ends.substring(1) : ""), () -> Draw.told(x, wanted));
+        }
+        for (int many : new int[] {-1, 7, 60, Integer.MIN_VALUE, Integer.MAX_VALUE}) {
+            Check.due("3 wires " + many, ARGUMENT, () -> x.wires(many));
+        }
+        Draw.fill(x, 60);
+        Check.due("3 wires in a full room", STATE, () -> x.wires(0));
+        Check.due("3 wrong wires in a full room", ARGUMENT, () -> x.wires(7));
+        Check.due("3 nothing made", 60, x::diagrams);
+    }
+
+    private static void crossing() {
+        Stringdrawer x = new Stringdrawer();
+        String[] due = {"0 0 0>0 .", "1 1 2>2 .-2,-1", "2 3 5>5 .-3,-4,-5,-1,-2",
+            "0 6 6>6 .-1,-2,-3,-4,-5,-6", "6 0 6>6 .-1,-2,-3,-4,-5,-6",
+            "1 5 6>6 .-2,-3,-4,-5,-6,-1", "3 1 4>4 .-4,-1,-2,-3"};
+        for (String line : due) {
+            int number = x.diagrams();
+            Check.due("4 crossing " + line, number,
+                    () -> x.crossing(line.charAt(0) - '0', line.charAt(2) - '0'));
+            Check.due("4 crossing " + line, line.substring(4), () -> Draw.told(x, number));
+        }
+        int[][] wrong = {{-1, 2}, {2, -1}, {7, 0}, {0, 7}, {4, 3}, {3, 4}, {7, -1}, {-1, 7},
+            {Integer.MAX_VALUE, Integer.MAX_VALUE}, {Integer.MIN_VALUE, Integer.MIN_VALUE},
+            {Integer.MAX_VALUE, 1}, {1, Integer.MAX_VALUE}, {0, Integer.MIN_VALUE}};
+        for (int[] pair : wrong) {
+            Check.due("4 crossing " + pair[0] + " " + pair[1], ARGUMENT,
+                    () -> x.crossing(pair[0], pair[1]));
+        }
+        Draw.fill(x, 60);
+        Check.due("4 crossing in a full room", STATE, () -> x.crossing(1, 1));
+        Check.due("4 wrong crossing in a full room", ARGUMENT, () -> x.crossing(4, 3));
+    }
+
+    private static void then() {
+        Stringdrawer x = new Stringdrawer();
+        int c = x.box('c');
+        int a = x.box('a');
+        Check.due("5 number", 2, () -> x.then(c, a));
+        Check.due("5 c then a", "1>1 c-1 a0,1 .2", () -> Draw.told(x, 2));
+        int ac = x.then(a, c);
+        Check.due("5 a then c", "2>2 a-1,-2 c0 .2,3", () -> Draw.told(x, ac));
+        int cross = x.crossing(1, 1);
+        int cx = x.then(c, cross);
+        Check.due("5 c then x", "1>2 c-1 .1,0", () -> Draw.told(x, cx));
+        int cxa = x.then(cx, a);
+        Check.due("5 c, x, a", "1>1 c-1 a1,0 .2", () -> Draw.told(x, cxa));
+        int xa = x.then(cross, a);
+        Check.due("5 x then a", "2>1 a-2,-1 .0", () -> Draw.told(x, xa));
+        int xx = x.then(cross, cross);
+        Check.due("5 x then x", "2>2 .-1,-2", () -> Draw.told(x, xx));
+        int z = x.box('z');
+        int d = x.box('d');
+        int zd = x.then(z, d);
+        Check.due("5 z then d", "0>0 z d0 .", () -> Draw.told(x, zd));
+        int dz = x.then(d, z);
+        Check.due("5 d then z", "1>1 d-1 z .2", () -> Draw.told(x, dz));
+        Check.due("5 c unchanged", "1>2 c-1 .0,1", () -> Draw.told(x, c));
+        Check.due("5 with itself", "1>1 2-1 20 .2", () -> {
+            int two = x.box('2');
+            return Draw.told(x, x.then(two, two));
+        });
+        Check.due("5 order of many", "1>1 c-1 30 21 a2,4 .6", () ->
+                Draw.told(x, Draw.of(x, "c;(3|2);a")));
+        Check.due("5 wires cross boxes", "2>2 2-2 3-1 .0,2", () ->
+                Draw.told(x, Draw.of(x, "x;(2|3)")));
+        Check.due("5 boxes before a crossing", "2>2 2-1 3-2 .2,0", () ->
+                Draw.told(x, Draw.of(x, "(2|3);x")));
+    }
+
+    private static void thenLimits() {
+        Stringdrawer x = new Stringdrawer();
+        int one = x.box('2');
+        int two = x.then(one, one);
+        int four = x.then(two, two);
+        int eight = x.then(four, four);
+        int sixteen = x.then(eight, eight);
+        int most = x.then(sixteen, eight);
+        int wire = x.wires(1);
+        int c = x.box('c');
+        Check.due("5 24 boxes", 24, () -> x.boxes(most));
+        Check.due("5 24 boxes deep", 24, () -> x.depth(most));
+        Check.due("5 24 and 1 boxes", UNSUPPORTED, () -> x.then(most, one));
+        Check.due("5 1 and 24 boxes", UNSUPPORTED, () -> x.then(one, most));
+        Check.due("5 16 and 16 boxes", UNSUPPORTED, () -> x.then(sixteen, sixteen));
+        Check.due("5 24 boxes and none", 8, () -> x.then(most, wire));
+        Check.due("5 not as many", UNSUPPORTED, () -> x.then(c, c));
+        Check.due("5 not as many", UNSUPPORTED, () -> x.then(c, one));
+        for (int number : OUTSIDE) {
+            Check.due("5 then " + number, INDEX, () -> x.then(number, c));
+            Check.due("5 then c " + number, INDEX, () -> x.then(c, number));
+        }
+        Check.due("5 then at the end", INDEX, () -> x.then(c, x.diagrams()));
+        Check.due("5 nothing made", 9, x::diagrams);
+        Draw.fill(x, 60);
+        Check.due("5 full", STATE, () -> x.then(one, one));
+        Check.due("5 full, too large", UNSUPPORTED, () -> x.then(most, one));
+        Check.due("5 full, none", INDEX, () -> x.then(60, one));
+        Check.due("5 nothing made", 60, x::diagrams);
+    }
+
+    private static void beside() {
+        Stringdrawer x = new Stringdrawer();
+        int c = x.box('c');
+        int a = x.box('a');
+        Check.due("6 number", 2, () -> x.beside(c, a));
+        Check.due("6 c beside a", "3>3 c-1 a-2,-3 .0,1,2", () -> Draw.told(x, 2));
+        int wired = x.beside(x.wires(2), c);
+        Check.due("6 wires beside c", "3>4 c-3 .-1,-2,0,1", () -> Draw.told(x, wired));
+        int crossed = x.beside(c, x.crossing(1, 2));
+        Check.due("6 c beside wires", "4>5 c-1 .0,1,-3,-4,-2", () -> Draw.told(x, crossed));
+        int z = x.box('z');
+        int n = x.box('n');
+        int zn = x.beside(z, n);
+        Check.due("6 z beside n", "1>1 z n-1 .0", () -> Draw.told(x, zn));
+        int nz = x.beside(n, z);
+        Check.due("6 n beside z", "1>1 n-1 z .2", () -> Draw.told(x, nz));
+        int closed = x.then(z, n);
+        int both = x.beside(closed, nz);
+        Check.due("6 closed ones", "1>1 z n0 n-1 z .6", () -> Draw.told(x, both));
+        int none = x.wires(0);
+        Check.due("6 nothing beside c", "1>2 c-1 .0,1", () -> Draw.told(x, x.beside(none, c)));
+        Check.due("6 c beside nothing", "1>2 c-1 .0,1", () -> Draw.told(x, x.beside(c, none)));
+        Check.due("6 c unchanged", "1>2 c-1 .0,1", () -> Draw.told(x, c));
+    }
+
+    private static void besideLimits() {
+        Stringdrawer x = new Stringdrawer();
+        int closed = Draw.of(x, "z;d");
+        int many = closed;
+        for (int add = 0; add < 11; add++) {
+            many = x.beside(many, closed);
+        }
+        int most = many;
+        Check.due("6 24 boxes", 24, () -> x.boxes(most));
+        Check.due("6 24 and 2 boxes", UNSUPPORTED, () -> x.beside(most, closed));
+        Check.due("6 2 and 24 boxes", UNSUPPORTED, () -> x.beside(closed, most));
+        int three = x.wires(3);
+        int four = x.wires(4);
+        Check.due("6 six wires", x.diagrams(), () -> x.beside(three, three));
+        Check.due("6 seven wires", UNSUPPORTED, () -> x.beside(three, four));
+        Check.due("6 seven wires", UNSUPPORTED, () -> x.beside(four, three));
+        int outs = Draw.of(x, "u|u|u|u");
+        int ins = Draw.of(x, "n|n|n|n");
+        Check.due("6 seven outputs", UNSUPPORTED, () -> x.beside(outs, three));
+        Check.due("6 seven inputs", UNSUPPORTED, () -> x.beside(three, ins));
+        Check.due("6 four and four", x.diagrams(), () -> x.beside(outs, ins));
+        for (int number : OUTSIDE) {
+            Check.due("6 beside " + number, INDEX, () -> x.beside(number, closed));
+            Check.due("6 beside closed " + number, INDEX, () -> x.beside(closed, number));
+        }
+        Check.due("6 beside at the end", INDEX, () -> x.beside(x.diagrams(), closed));
+        Draw.fill(x, 60);
+        Check.due("6 full", STATE, () -> x.beside(closed, closed));
+        Check.due("6 full, too large", UNSUPPORTED, () -> x.beside(most, closed));
+        Check.due("6 full, none", INDEX, () -> x.beside(0, 60));
+        Check.due("6 nothing made", 60, x::diagrams);
+    }
+
+    private static void turn() {
+        Stringdrawer x = new Stringdrawer();
+        String kinds = "cdazmusn123456";
+        String turned = "musncdaz145236";
+        for (int index = 0; index < kinds.length(); index++) {
+            int box = x.box(kinds.charAt(index));
+            char due = turned.charAt(index);
+            Check.due("7 turn " + kinds.charAt(index), Draw.told(x, x.box(due)),
+                    () -> Draw.told(x, x.turn(box)));
+        }
+        Stringdrawer y = new Stringdrawer();
+        int d = Draw.of(y, "c;(2|w);(w|d|z)");
+        Check.due("7 turn many", "2>1 m2,4 4-1 u n-2 .0", () -> Draw.told(y, y.turn(d)));
+        int wires = y.crossing(1, 2);
+        Check.due("7 turn wires", "3>3 .-3,-1,-2", () -> Draw.told(y, y.turn(wires)));
+        Check.due("7 turn twice", Draw.told(y, d), () -> Draw.told(y, y.turn(y.turn(d))));
+        int nil = y.box('0');
+        int pair = y.beside(d, nil);
+        int before = y.diagrams();
+        Check.due("7 turn 0", UNSUPPORTED, () -> y.turn(nil));
+        Check.due("7 turn with a 0", UNSUPPORTED, () -> y.turn(pair));
+        Check.due("7 number", before, () -> y.turn(d));
+        for (int number : OUTSIDE) {
+            Check.due("7 turn " + number, INDEX, () -> y.turn(number));
+        }
+        Check.due("7 turn at the end", INDEX, () -> y.turn(y.diagrams()));
+        Draw.fill(y, 60);
+        Check.due("7 full", STATE, () -> y.turn(d));
+        Check.due("7 full, 0", UNSUPPORTED, () -> y.turn(nil));
+        Check.due("7 full, none", INDEX, () -> y.turn(60));
+        Check.due("7 nothing made", 60, y::diagrams);
+    }
+
+    private static void counts() {
+        Stringdrawer x = new Stringdrawer();
+        int d = Draw.of(x, "(c|a);(w|w|d)");
+        Check.due("8 inputs", 3, () -> x.inputs(d));
+        Check.due("9 outputs", 2, () -> x.outputs(d));
+        Check.due("10 boxes", 3, () -> x.boxes(d));
+        Check.due("36 diagrams", d + 1, x::diagrams);
+        Check.due("38 allBoxes", 1L + 1 + 2 + 0 + 0 + 0 + 1 + 1 + 3, x::allBoxes);
+        int wires = x.wires(6);
+        Check.due("8 inputs of wires", 6, () -> x.inputs(wires));
+        Check.due("9 outputs of wires", 6, () -> x.outputs(wires));
+        Check.due("10 boxes of wires", 0, () -> x.boxes(wires));
+        Check.due("36 diagrams", d + 2, x::diagrams);
+        for (int number : OUTSIDE) {
+            Check.due("8 inputs " + number, INDEX, () -> x.inputs(number));
+            Check.due("9 outputs " + number, INDEX, () -> x.outputs(number));
+            Check.due("10 boxes " + number, INDEX, () -> x.boxes(number));
+        }
+        Check.due("8 inputs at the end", INDEX, () -> x.inputs(x.diagrams()));
+        Check.due("9 outputs at the end", INDEX, () -> x.outputs(x.diagrams()));
+        Check.due("10 boxes at the end", INDEX, () -> x.boxes(x.diagrams()));
+        Draw.fill(x, 60);
+        Check.due("36 all diagrams", 60, x::diagrams);
+        Check.due("8 inputs of the last one", 0, () -> x.inputs(59));
+    }
+
+    private static void kindAt() {
+        Stringdrawer x = new Stringdrawer();
+        int d = Draw.of(x, "c;(0|6);m;s;(n|1)");
+        String kinds = "c06msn1";
+        for (int box = 0; box < kinds.length(); box++) {
+            int number = box;
+            Check.due("11 kindAt " + box, kinds.charAt(box), () -> x.kindAt(d, number));
+        }
+        for (int box : new int[] {-1, 7, 8, 24, Integer.MIN_VALUE, Integer.MAX_VALUE}) {
+            Check.due("11 kindAt " + box, INDEX, () -> x.kindAt(d, box));
+        }
+        for (int number : OUTSIDE) {
+            Check.due("11 kindAt of " + number, INDEX, () -> x.kindAt(number, 0));
+        }
+        int wires = x.wires(1);
+        Check.due("11 kindAt of wires", INDEX, () -> x.kindAt(wires, 0));
+    }
+
+    private static void source() {
+        Stringdrawer x = new Stringdrawer();
+        int d = Draw.of(x, "(w|c|w);(a|m)");
+        Check.due("12 first of a", -1, () -> x.source(d, 1, 0));
+        Check.due("12 second of a", 0, () -> x.source(d, 1, 1));
+        Check.due("12 first of m", 1, () -> x.source(d, 2, 0));
+        Check.due("12 second of m", -3, () -> x.source(d, 2, 1));
+        Check.due("12 c", -2, () -> x.source(d, 0, 0));
+        Check.due("12 first output", 2, () -> x.source(d, -1, 0));
+        Check.due("12 second output", 4, () -> x.source(d, -1, 1));
+        int[] places = {-1, 2, Integer.MIN_VALUE, Integer.MAX_VALUE};
+        for (int place : places) {
+            Check.due("12 a " + place, NO_ELEMENT, () -> x.source(d, 1, place));
+            Check.due("12 output " + place, NO_ELEMENT, () -> x.source(d, -1, place));
+        }
+        Check.due("12 c 1", NO_ELEMENT, () -> x.source(d, 0, 1));
+        int z = x.box('z');
+        Check.due("12 z 0", NO_ELEMENT, () -> x.source(z, 0, 0));
+        int n = x.box('n');
+        Check.due("12 no output", NO_ELEMENT, () -> x.source(n, -1, 0));
+        Check.due("12 n", -1, () -> x.source(n, 0, 0));
+        for (int box : new int[] {-2, 3, Integer.MIN_VALUE, Integer.MAX_VALUE}) {
+            Check.due("12 box " + box, INDEX, () -> x.source(d, box, 0));
+            Check.due("12 box " + box + " place 9", INDEX, () -> x.source(d, box, 9));
+        }
+        for (int number : OUTSIDE) {
+            Check.due("12 diagram " + number, INDEX, () -> x.source(number, 0, 9));
+        }
+        Check.due("12 sixth output", -6, () -> x.source(x.wires(6), -1, 5));
+    }
+
+    private static void depth() {
+        String[] due = {"w 0", "e 0", "c 1", "z 1", "d|z 1", "z;d 2", "2;3;4 3", "2|(3;4) 2",
+            "c;((2;3;4)|w);a 5", "c;(w|(2;3;4));a 5", "(d;z);2 2", "x;(2|w);x;(2|w) 1",
+            "x;(2|w);(3|w) 2"};
+        for (String line : due) {
+            int split = line.lastIndexOf(' ');
+            int depth = Integer.parseInt(line.substring(split + 1));
+            Stringdrawer x = new Stringdrawer();
+            int d = Draw.of(x, line.substring(0, split));
+            Check.due("13 depth " + line, depth, () -> x.depth(d));
+            int other = Draw.of(x, "c;(2|(3;4));a");
+            Check.due("13 depth of another one", 4, () -> x.depth(other));
+            Check.due("13 depth again " + line, depth, () -> x.depth(d));
+            for (int number : OUTSIDE) {
+                Check.due("13 depth " + number, INDEX, () -> x.depth(number));
+            }
+        }
+    }
+
+    private static void alike(boolean due, String first, String second) {
+        Stringdrawer x = new Stringdrawer();
+        int one = Draw.of(x, first);
+        int other = Draw.of(x, second);
+        Check.due("14 " + first + " and " + second, due, () -> x.areAlike(one, other));
+        Check.due("14 " + second + " and " + first, due, () -> x.areAlike(other, one));
+        Check.due("14 " + first + " and itself", true, () -> x.areAlike(one, one));
+    }
+
+    private static void alike() {
+        alike(true, "(2|w);(w|3)", "(w|3);(2|w)");
+        alike(true, "2|3", "x;(3|2);x");
+        alike(false, "2|3", "3|2");
+        alike(false, "2;3", "3;2");
+        alike(false, "a", "x;a");
+        alike(false, "c", "c;x");
+        alike(false, "w|w", "x");
+        alike(true, "x;x", "w|w");
+        alike(true, "e", "e");
+        alike(false, "c", "s");
+        alike(false, "z", "u");
+        alike(false, "2", "3");
+        alike(false, "w", "1");
+        alike(false, "w", "2");
+        alike(false, "c", "m");
+        alike(false, "d", "n");
+        alike(false, "c;(2|w);a", "c;(w|2);a");
+        alike(true, "c;(2|w);a", "c;((w;2)|w);a");
+        alike(false, "c;(2|3);a", "c;(3|2);x;a");
+        alike(true, "c;(2|3);a", "c;(w|3);(2|w);a");
+        alike(false, "c;(c|w);(a|w);a", "c;(w|c);(w|a);a");
+        alike(false, "c;(c|w)", "c;(w|c)");
+        Stringdrawer x = new Stringdrawer();
+        int c = x.box('c');
+        for (int number : OUTSIDE) {
+            Check.due("14 areAlike " + number, INDEX, () -> x.areAlike(number, c));
+            Check.due("14 areAlike c " + number, INDEX, () -> x.areAlike(c, number));
+        }
+        Check.due("14 areAlike at the end", INDEX, () -> x.areAlike(c, x.diagrams()));
+    }
+
+    /** Parts without inputs and outputs hang at no edge, and may come in any order. */
+    private static void alikeParts() {
+        alike(true, "(z;d)|(u;n)", "(u;n)|(z;d)");
+        alike(false, "(z;d)|(u;n)", "(z;n)|(u;d)");
+        alike(true, "(z;d)|(z;d)|w", "w|(z;d)|(z;d)");
+        alike(false, "(z;d)|(z;d)|(z;n)", "(z;d)|(z;n)|(z;n)");
+        alike(true, "(z;2;d)|(z;3;d)|(z;2;d)", "(z;2;d)|(z;2;d)|(z;3;d)");
+        alike(false, "z;c;(d|n)", "z;c;(n|d)");
+        alike(true, "(z;c;(d|n))|(z;c;(n|d))", "(z;c;(n|d))|(z;c;(d|n))");
+        alike(false, "(z;c;(d|n))|(z;c;(d|n))", "(z;c;(n|d))|(z;c;(d|n))");
+        alike(false, "(z;2;2;d)|(z;d)", "(z;2;d)|(z;2;d)");
+        alike(false, "(z|u);a;n", "(u|z);a;n");
+        alike(true, "(d;z)|(z;d)", "(z;d)|(d;z)");
+        alike(false, "d;z", "w");
+        alike(false, "(z;d)|w", "d;z");
+    }
+}

@@ -1,0 +1,101 @@
+/**
+ * Draws a diagram that is told by a text: a kind is a box, w a wire, x two wires that cross, e
+ * nothing; "|" puts beside, ";" puts behind, and brackets come first. Each sign takes one number.
+ */
+final class Draw {
+    private final Stringdrawer drawer;
+    private final String text;
+    private int at;
+
+    private Draw(Stringdrawer drawer, String text) {
+        this.drawer = drawer;
+        this.text = text.replace(" ", "");
+    }
+
+    static int of(Stringdrawer drawer, String text) {
+        return new Draw(drawer, text).row();
+    }
+
+    /** Draws boxes until the room has so many diagrams. */
+    static void fill(Stringdrawer drawer, int many) {
+        while (drawer.diagrams() < many) {
+            drawer.wires(0);
+        }
+    }
+
+    /** Tells inputs and outputs, then each box with its sources, then the sources of outputs. */
+    static String told(Stringdrawer x, int d) {
+        StringBuilder text = new StringBuilder();
+        text.append(x.inputs(d)).append('>').append(x.outputs(d));
+        for (int box = 0; box < x.boxes(d); box++) {
+            text.append(' ').append(x.kindAt(d, box));
+            appendSources(x, d, box, text);
+        }
+        text.append(" .");
+        appendSources(x, d, -1, text);
+        return text.toString();
+    }
+
+    private static void appendSources(Stringdrawer x, int d, int box, StringBuilder text) {
+        for (int place = 0; place < 7; place++) {
+            int wire = place;
+            Object source = Check.answer(() -> x.source(d, box, wire));
+            if (source instanceof Integer) {
+                text.append(place == 0 ? "" : ",").append(source);
+            }
+        }
+    }
+
+    /** The depth, found by going back from each box. */
+    static int depth(Stringdrawer drawer, int diagram) {
+        int deepest = 0;
+        for (int box = 0; box < drawer.boxes(diagram); box++) {
+            deepest = Math.max(deepest, depthOf(drawer, diagram, box));
+        }
+        return deepest;
+    }
+
+    private static int depthOf(Stringdrawer drawer, int diagram, int box) {
+        int deepest = 0;
+        int ins = Plain.arityIn(drawer.kindAt(diagram, box));
+        for (int place = 0; place < ins; place++) {
+            int source = drawer.source(diagram, box, place);
+            deepest = source < 0 ? deepest
+                    : Math.max(deepest, depthOf(drawer, diagram, source / 2));
+        }
+        return deepest + 1;
+    }
+
+    private int row() {
+        int made = column();
+        while (at < text.length() && text.charAt(at) == ';') {
+            at++;
+            made = drawer.then(made, column());
+        }
+        return made;
+    }
+
+    private int column() {
+        int made = piece();
+        while (at < text.length() && text.charAt(at) == '|') {
+            at++;
+            made = drawer.beside(made, piece());
+        }
+        return made;
+    }
+
+    private int piece() {
+        char sign = text.charAt(at++);
+        if (sign == '(') {
+            int made = row();
+            at++;
+            return made;
+        }
+        return switch (sign) {
+            case 'w' -> drawer.wires(1);
+            case 'x' -> drawer.crossing(1, 1);
+            case 'e' -> drawer.wires(0);
+            default -> drawer.box(sign);
+        };
+    }
+}

@@ -1,0 +1,369 @@
+/** Promises 30 to 35 and 41: simplifying, shortest films, showing them again, and soundness. */
+public final class FilmsTest {
+    private static final String INDEX = "throws.IndexOutOfBoundsException";
+    private static final String ARGUMENT = "throws.IllegalArgumentException";
+    private static final String STATE = "throws.IllegalStateException";
+    private static final String UNSUPPORTED = "throws.UnsupportedOperationException";
+    private static final String NO_ELEMENT = "throws.NoSuchElementException";
+    private static final int[] OUTSIDE = {-1, Integer.MIN_VALUE, Integer.MAX_VALUE, 60, 1000};
+
+    public static void main(String[] args) {
+        simplify();
+        simplifyWithoutStep();
+        simplifyLimits();
+        simplifyTooLarge();
+        reach();
+        reachFirst();
+        reachLimits();
+        reachSteps();
+        reachTooLarge();
+        reachMany();
+        reachAlike();
+        show();
+        showLimits();
+        sound();
+        Check.end();
+    }
+
+    private static int rule(Stringdrawer x, String left, String right) {
+        int taken = Draw.of(x, left);
+        int given = Draw.of(x, right);
+        return x.rule(taken, given);
+    }
+
+    /** Tells the steps, each by its rule and match. */
+    private static String film(Stringdrawer x) {
+        StringBuilder text = new StringBuilder();
+        for (int step = 0; step < x.steps(); step++) {
+            text.append(step > 0 ? " " : "").append(x.ruleOf(step)).append('/')
+                    .append(x.matchOf(step));
+        }
+        return text.toString();
+    }
+
+    private static void simplify() {
+        Stringdrawer x = new Stringdrawer();
+        rule(x, "2;3", "6");
+        rule(x, "6;6", "1");
+        rule(x, "1", "w");
+        int d = Draw.of(x, "2;3;2;3");
+        int number = x.diagrams();
+        Check.due("30 number", number, () -> x.simplify(d, 30));
+        Check.due("30 simplified", "1>1 .-1", () -> Draw.told(x, number));
+        Check.due("32 steps", 4, x::steps);
+        Check.due("33 34 film", "0/0 0/0 1/0 2/0", () -> film(x));
+        Check.due("30 the other one stays", "1>1 2-1 30 22 34 .6", () -> Draw.told(x, d));
+        String[] due = {"1>1 24 30 6-1 .2", "1>1 6-1 60 .2", "1>1 1-1 .0", "1>1 .-1", "1>1 .-1"};
+        for (int most = 1; most <= 5; most++) {
+            int times = most;
+            int made = x.diagrams();
+            Check.due("30 number", made, () -> x.simplify(d, times));
+            Check.due("30 as often as " + most, due[most - 1], () -> Draw.told(x, made));
+            Check.due("32 steps", Math.min(most, 4), x::steps);
+        }
+        for (int step : new int[] {-1, 4, 30, Integer.MIN_VALUE, Integer.MAX_VALUE}) {
+            Check.due("33 ruleOf " + step, NO_ELEMENT, () -> x.ruleOf(step));
+            Check.due("34 matchOf " + step, NO_ELEMENT, () -> x.matchOf(step));
+        }
+        int lowest = Draw.of(x, "1;6;6;2;3");
+        Check.due("30 another one", x.diagrams(), () -> x.simplify(lowest, 30));
+        Check.due("30 the lowest rule first", "0/0 1/0 2/0 2/0", () -> film(x));
+    }
+
+    private static void simplifyWithoutStep() {
+        Stringdrawer x = new Stringdrawer();
+        int d = Draw.of(x, "(2|3);x;a");
+        int made = x.diagrams();
+        Check.due("30 without rules", made, () -> x.simplify(d, 1));
+        Check.due("30 a diagram like it", Draw.told(x, d), () -> Draw.told(x, made));
+        Check.due("32 no steps", 0, x::steps);
+        rule(x, "2;3", "6");
+        int broken = rule(x, "2|4", "x;(5|6)");
+        x.simplify(Draw.of(x, "2;3"), 5);
+        Check.due("32 one step", "0/0", () -> film(x));
+        int chain = Draw.of(x, "2;4");
+        int number = x.diagrams();
+        Check.due("27 a broken match", 1, () -> x.broken(chain, broken));
+        Check.due("30 a broken match is none", number, () -> x.simplify(chain, 30));
+        Check.due("30 a diagram like it", "1>1 2-1 40 .2", () -> Draw.told(x, number));
+        Check.due("32 the film is new", 0, x::steps);
+    }
+
+    private static void simplifyLimits() {
+        Stringdrawer x = new Stringdrawer();
+        rule(x, "2", "2");
+        int d = Draw.of(x, "2;3");
+        int other = Draw.of(x, "3");
+        for (int most : new int[] {0, -1, 31, Integer.MIN_VALUE, Integer.MAX_VALUE}) {
+            Check.due("30 most " + most, ARGUMENT, () -> x.simplify(d, most));
+        }
+        for (int number : OUTSIDE) {
+            Check.due("30 simplify " + number, INDEX, () -> x.simplify(number, 1));
+            Check.due("30 simplify " + number + " 0", INDEX, () -> x.simplify(number, 0));
+        }
+        Check.due("30 all steps", x.diagrams(), () -> x.simplify(d, 30));
+        Check.due("32 all steps", 30, x::steps);
+        Check.due("33 last step", 0, () -> x.ruleOf(29));
+        Check.due("34 last step", 0, () -> x.matchOf(29));
+        Check.due("33 behind", NO_ELEMENT, () -> x.ruleOf(30));
+        Check.due("30 29 steps", x.diagrams(), () -> x.simplify(d, 29));
+        Check.due("32 29 steps", 29, x::steps);
+        Draw.fill(x, 60);
+        Check.due("30 full", STATE, () -> x.simplify(d, 3));
+        Check.due("30 full, without a step", STATE, () -> x.simplify(other, 3));
+        Check.due("30 full, 0", ARGUMENT, () -> x.simplify(d, 0));
+        Check.due("30 full, none", INDEX, () -> x.simplify(60, 0));
+        Check.due("32 the film stays", 29, x::steps);
+        Check.due("30 nothing made", 60, x::diagrams);
+    }
+
+    private static void simplifyTooLarge() {
+        Stringdrawer x = new Stringdrawer();
+        rule(x, "1", "w");
+        rule(x, "2", "2;4;4");
+        int d = Draw.of(x, "1;2");
+        Check.due("30 12 steps", x.diagrams(), () -> x.simplify(d, 12));
+        Check.due("30 23 boxes", 23, () -> x.boxes(x.diagrams() - 1));
+        Check.due("32 12 steps", 12, x::steps);
+        int before = x.diagrams();
+        Check.due("30 13 steps", UNSUPPORTED, () -> x.simplify(d, 13));
+        Check.due("30 30 steps", UNSUPPORTED, () -> x.simplify(d, 30));
+        Check.due("30 nothing made", before, x::diagrams);
+        Check.due("32 the film stays", 12, x::steps);
+        int odd = Draw.of(x, "2;3");
+        Check.due("30 to 24 boxes", x.diagrams(), () -> x.simplify(odd, 11));
+        Check.due("30 24 boxes", 24, () -> x.boxes(x.diagrams() - 1));
+        Check.due("30 to 26 boxes", UNSUPPORTED, () -> x.simplify(odd, 12));
+        Draw.fill(x, 60);
+        Check.due("30 full, too large", UNSUPPORTED, () -> x.simplify(odd, 12));
+        Check.due("30 full", STATE, () -> x.simplify(odd, 11));
+        Check.due("32 the film stays", 11, x::steps);
+    }
+
+    private static void reach() {
+        Stringdrawer x = new Stringdrawer();
+        rule(x, "2", "3");
+        rule(x, "3", "4");
+        int two = Draw.of(x, "2");
+        int four = Draw.of(x, "4");
+        Check.due("31 two steps", 2, () -> x.reach(two, four, 4));
+        Check.due("32 two steps", "0/0 1/0", () -> film(x));
+        Check.due("31 just enough", 2, () -> x.reach(two, four, 2));
+        int before = x.diagrams();
+        Check.due("31 not enough", NO_ELEMENT, () -> x.reach(two, four, 1));
+        Check.due("31 no way back", NO_ELEMENT, () -> x.reach(four, two, 4));
+        Check.due("31 not as many", NO_ELEMENT, () -> x.reach(two, x.box('a'), 4));
+        Check.due("32 the film stays", "0/0 1/0", () -> film(x));
+        Check.due("31 nothing made", before + 1, x::diagrams);
+        Check.due("31 itself", 0, () -> x.reach(two, two, 0));
+        Check.due("32 no steps", 0, x::steps);
+        rule(x, "2", "4");
+        Check.due("31 a shorter one", 1, () -> x.reach(two, four, 4));
+        Check.due("32 a shorter one", "2/0", () -> film(x));
+        Check.due("31 alike without a step", 0, () -> x.reach(two, x.box('2'), 3));
+        Check.due("32 no steps", 0, x::steps);
+    }
+
+    private static void reachFirst() {
+        Stringdrawer x = new Stringdrawer();
+        rule(x, "2", "3");
+        rule(x, "3", "5");
+        rule(x, "2", "4");
+        rule(x, "4", "5");
+        rule(x, "2", "3");
+        int d = Draw.of(x, "2|2");
+        int second = Draw.of(x, "2|3");
+        int both = Draw.of(x, "5|3");
+        int fives = Draw.of(x, "5|5");
+        Check.due("31 one step", 1, () -> x.reach(d, second, 4));
+        Check.due("34 the second match", "0/1", () -> film(x));
+        Check.due("31 three steps", 3, () -> x.reach(d, both, 4));
+        Check.due("33 the first of many", "0/0 0/0 1/0", () -> film(x));
+        Check.due("31 four steps", 4, () -> x.reach(d, fives, 4));
+        Check.due("33 the first of many", "0/0 0/0 1/0 1/0", () -> film(x));
+    }
+
+    private static void reachLimits() {
+        Stringdrawer x = new Stringdrawer();
+        rule(x, "2", "3");
+        int d = Draw.of(x, "2|2|2|2|2");
+        int four = Draw.of(x, "3|3|3|3|2");
+        int five = Draw.of(x, "3|3|3|3|3");
+        for (int most : new int[] {-1, 5, Integer.MIN_VALUE, Integer.MAX_VALUE}) {
+            Check.due("31 most " + most, ARGUMENT, () -> x.reach(d, four, most));
+            Check.due("31 most " + most, ARGUMENT, () -> x.reach(d, x.wires(0), most));
+            Check.due("31 none, most " + most, INDEX, () -> x.reach(60, four, most));
+        }
+        Check.due("31 four steps", 4, () -> x.reach(d, four, 4));
+        Check.due("31 five steps", NO_ELEMENT, () -> x.reach(d, five, 4));
+        Check.due("31 from the next one", 1, () -> x.reach(four, five, 1));
+        Check.due("31 no steps", NO_ELEMENT, () -> x.reach(four, five, 0));
+        for (int number : OUTSIDE) {
+            Check.due("31 reach " + number, INDEX, () -> x.reach(number, four, 9));
+            Check.due("31 reach to " + number, INDEX, () -> x.reach(d, number, 9));
+        }
+        Draw.fill(x, 60);
+        Check.due("31 in a full room", 4, () -> x.reach(d, four, 4));
+        Check.due("32 in a full room", 4, x::steps);
+        Check.due("30 full", STATE, () -> x.simplify(d, 1));
+        Check.due("32 the film stays", 4, x::steps);
+    }
+
+    private static void reachSteps() {
+        Stringdrawer x = new Stringdrawer();
+        rule(x, "2;3", "6");
+        rule(x, "c;(2|2);a", "2;c;a");
+        rule(x, "c;a", "2");
+        int d = Draw.of(x, "c;(2|2);a;3");
+        int goal = Draw.of(x, "2;6");
+        Check.due("31 three steps", 3, () -> x.reach(d, goal, 4));
+        Check.due("33 three steps", "1/0 2/0 0/0", () -> film(x));
+        int shown = x.show(d);
+        Check.due("35 shown", true, () -> x.areAlike(shown, goal));
+    }
+
+    private static void reachTooLarge() {
+        Stringdrawer x = new Stringdrawer();
+        rule(x, "2", "2;4");
+        rule(x, "2", "3");
+        int eleven = Draw.of(x, "1;1;1;1;1;1;1;1;1;1;1");
+        int pairs = x.then(eleven, eleven);
+        int most = x.then(x.then(pairs, x.box('2')), x.box('1'));
+        int goal = x.then(x.then(pairs, x.box('3')), x.box('1'));
+        Check.due("31 24 boxes", 24, () -> x.boxes(most));
+        Check.due("31 a step that is none", 1, () -> x.reach(most, goal, 4));
+        Check.due("33 the other rule", "1/0", () -> film(x));
+        Check.due("31 none", NO_ELEMENT, () -> x.reach(most, eleven, 4));
+        int two = x.then(pairs, x.box('2'));
+        int last = x.then(x.then(pairs, x.box('3')), x.box('4'));
+        Check.due("31 to 24 boxes", 2, () -> x.reach(two, last, 2));
+        Check.due("33 to 24 boxes", "0/0 1/0", () -> film(x));
+    }
+
+    /** With 30 first steps, the 200th diagram comes among those of two steps. */
+    private static void reachMany() {
+        Stringdrawer x = new Stringdrawer();
+        Plain model = new Plain();
+        model.box('2');
+        x.box('2');
+        for (char kind = '3'; kind <= '6'; kind++) {
+            model.rule(0, model.box(kind));
+            x.rule(0, x.box(kind));
+        }
+        model.rule(0, model.wires(1));
+        x.rule(0, x.wires(1));
+        int start = 0;
+        for (int more = 0; more < 5; more++) {
+            start = model.beside(start, 0);
+            x.beside(more == 0 ? 0 : start - 1, 0);
+        }
+        int first = start;
+        int found = 0;
+        int middle = first;
+        while (model.diagrams() < 60) {
+            if (model.diagrams() % 4 == 0 || middle == first) {
+                int rule = model.diagrams() % 5;
+                int match = model.diagrams() % 6;
+                middle = model.rewrite(first, rule, match);
+                x.rewrite(first, rule, match);
+            } else {
+                int rule = model.diagrams() * 3 % 5;
+                int match = model.diagrams() % 5;
+                int goal = model.rewrite(middle, rule, match);
+                x.rewrite(middle, rule, match);
+                Object due = Check.answer(() -> model.reach(first, goal, 4));
+                found += due.equals(2) ? 1 : 0;
+                Check.due("31 of many to " + goal, due, () -> x.reach(first, goal, 4));
+                Check.due("33 34 of many", model.steps(), x::steps);
+            }
+        }
+        int reached = found;
+        Check.due("31 some are found, some are not", true, () -> reached > 5 && reached < 30);
+    }
+
+    /** Diagrams that are alike an earlier one are not counted, and not gone on with. */
+    private static void reachAlike() {
+        Stringdrawer x = new Stringdrawer();
+        rule(x, "z;d", "u;n");
+        rule(x, "u;n", "z;n");
+        int d = Draw.of(x, "(z;d)|(z;d)|(z;d)");
+        int goal = Draw.of(x, "(z;n)|(u;n)|(z;d)");
+        Check.due("31 parts in any order", 3, () -> x.reach(d, goal, 4));
+        Check.due("33 parts in any order", "0/0 0/0 1/0", () -> film(x));
+        int last = Draw.of(x, "(z;n)|(z;n)|(u;n)");
+        Check.due("31 five steps", NO_ELEMENT, () -> x.reach(d, last, 4));
+        int four = Draw.of(x, "(z;d)|(z;n)|(z;n)");
+        Check.due("31 four steps", 4, () -> x.reach(d, four, 4));
+        Check.due("33 four steps", "0/0 0/0 1/0 1/0", () -> film(x));
+    }
+
+    private static void show() {
+        Stringdrawer x = new Stringdrawer();
+        int d = Draw.of(x, "2|2");
+        int before = x.diagrams();
+        Check.due("35 an empty film", before, () -> x.show(d));
+        Check.due("35 a diagram like it", Draw.told(x, d), () -> Draw.told(x, before));
+        rule(x, "2", "3");
+        rule(x, "3", "4;5");
+        int goal = Draw.of(x, "2|(4;5)");
+        Check.due("31 two steps", 2, () -> x.reach(d, goal, 4));
+        Check.due("33 two steps", "0/1 1/0", () -> film(x));
+        int other = Draw.of(x, "(3;2)|(2;2)");
+        int number = x.diagrams();
+        Check.due("35 number", number, () -> x.show(other));
+        Check.due("35 shown", "2>2 28 24 3-2 4-1 56 .0,2", () -> Draw.told(x, number));
+        Check.due("32 the film stays", "0/1 1/0", () -> film(x));
+        Check.due("35 the other one stays", "2>2 3-1 20 2-2 24 .2,6", () -> Draw.told(x, other));
+    }
+
+    private static void showLimits() {
+        Stringdrawer x = new Stringdrawer();
+        int first = rule(x, "2", "3");
+        rule(x, "3", "3;3");
+        int d = Draw.of(x, "2;2");
+        int goal = Draw.of(x, "2;3;3");
+        Check.due("31 two steps", 2, () -> x.reach(d, goal, 4));
+        Check.due("33 two steps", "0/1 1/0", () -> film(x));
+        int one = Draw.of(x, "2");
+        int none = Draw.of(x, "3;3");
+        int four = Draw.of(x, "1;1;1;1");
+        int twelve = x.then(x.then(four, four), four);
+        int less = x.then(x.then(x.then(twelve, four), four), x.then(d, x.box('1')));
+        int most = x.then(less, x.box('1'));
+        Check.due("35 one match alone", NO_ELEMENT, () -> x.show(one));
+        Check.due("35 no match", NO_ELEMENT, () -> x.show(none));
+        Check.due("35 25 boxes", UNSUPPORTED, () -> x.show(most));
+        Check.due("35 24 boxes", x.diagrams(), () -> x.show(less));
+        Check.due("35 24 boxes", 24, () -> x.boxes(x.diagrams() - 1));
+        for (int number : OUTSIDE) {
+            Check.due("35 show " + number, INDEX, () -> x.show(number));
+        }
+        Check.due("32 the film stays", 2, x::steps);
+        Check.due("25 rule", false, () -> x.isTrue(first));
+        Draw.fill(x, 60);
+        Check.due("35 full", STATE, () -> x.show(d));
+        Check.due("35 full, 25 boxes", UNSUPPORTED, () -> x.show(most));
+        Check.due("35 full, no match", NO_ELEMENT, () -> x.show(one));
+        Check.due("35 full, none", INDEX, () -> x.show(60));
+        Check.due("35 nothing made", 60, x::diagrams);
+    }
+
+    private static void sound() {
+        String[][] rooms = {{"2;3:6", "2:3", "m;c:(w|c);(m|w)", "s;a:w", "z;d:e"},
+            {"a;c:(c|c);(w|x|w);(a|a)", "d:u;n|d", "c;a:2"}, {"a;s:(s|w);(w|a)", "2;3:6", "0:d;z"}};
+        for (String[] room : rooms) {
+            Stringdrawer x = new Stringdrawer();
+            for (String line : room) {
+                String[] sides = line.split(":");
+                Check.answer(() -> rule(x, sides[0], sides[1]));
+            }
+            Draw.of(x, "(m|a);(c|s);(2|m|0);(3|a)");
+            int before = x.diagrams();
+            Check.due("41 isSound", true, x::isSound);
+            Check.due("41 nothing made", before, x::diagrams);
+            Check.due("41 no film", 0, x::steps);
+            Draw.fill(x, 60);
+            Check.due("41 isSound in a full room", true, x::isSound);
+        }
+    }
+}
