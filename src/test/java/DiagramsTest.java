@@ -17,12 +17,14 @@ public final class DiagramsTest {
         beside();
         besideLimits();
         turn();
+        allPlaces();
         counts();
         kindAt();
         source();
         depth();
         alike();
         alikeParts();
+        alikeBackwards();
         Check.end();
     }
 
@@ -270,6 +272,55 @@ public final class DiagramsTest {
         Check.due("7 nothing made", 60, y::diagrams);
     }
 
+    /** All six inputs and outputs, and both wires of the last of 24 boxes. */
+    private static void allPlaces() {
+        Stringdrawer x = new Stringdrawer();
+        int three = x.crossing(1, 2);
+        int six = x.beside(three, three);
+        Check.due("6 six wires", "6>6 .-2,-3,-1,-5,-6,-4", () -> Draw.told(x, six));
+        int twice = x.then(six, six);
+        Check.due("5 six wires", "6>6 .-3,-1,-2,-6,-4,-5", () -> Draw.told(x, twice));
+        int turned = x.turn(six);
+        Check.due("7 six wires", "6>6 .-3,-1,-2,-6,-4,-5", () -> Draw.told(x, turned));
+        int boxes = Draw.of(x, "2|3|4|5|6|1");
+        int many = x.then(x.then(six, boxes), six);
+        Check.due("5 six boxes", "6>6 2-2 3-3 4-1 5-5 6-6 1-4 .2,4,0,8,10,6",
+                () -> Draw.told(x, many));
+        Check.due("7 six boxes", "6>6 4-3 5-1 2-2 3-6 6-4 1-5 .4,0,2,10,6,8",
+                () -> Draw.told(x, x.turn(many)));
+        lastBox();
+    }
+
+    private static void lastBox() {
+        Stringdrawer x = new Stringdrawer();
+        int seven = Draw.of(x, "1;1;1;1;1;1;1");
+        int chain = x.then(x.then(x.then(seven, seven), seven), x.box('1'));
+        int split = x.then(x.then(chain, x.box('1')), x.box('c'));
+        int both = x.then(x.then(x.box('c'), x.beside(chain, x.wires(1))), x.box('a'));
+        int[] diagrams = {split, x.turn(split), both, x.turn(both), x.beside(split, x.wires(4))};
+        int[][] due = {{-1, 44, 99, 46, 47}, {2, -1, -2, 0, 99}, {-1, 44, 1, 46, 99},
+            {2, -1, 99, 0, 99}, {-1, 44, 99, 46, 47}};
+        for (int index = 0; index < diagrams.length; index++) {
+            int d = diagrams[index];
+            int[] wanted = due[index];
+            Check.due("10 24 boxes", 24, () -> x.boxes(d));
+            Check.due("13 24 boxes", 24, () -> x.depth(d));
+            Check.due("12 the first box", wanted[0], () -> x.source(d, 0, 0));
+            Check.due("12 the last box", wanted[1], () -> x.source(d, 23, 0));
+            Check.due("12 the last box, 1", wanted[2] == 99 ? NO_ELEMENT : wanted[2],
+                    () -> x.source(d, 23, 1));
+            Check.due("12 output 0", wanted[3], () -> x.source(d, -1, 0));
+            Check.due("12 output 1", wanted[4] == 99 ? NO_ELEMENT : wanted[4],
+                    () -> x.source(d, -1, 1));
+        }
+        Check.due("12 from the last box", 47, () -> x.source(diagrams[3], 0, 1));
+        Check.due("12 from the last box", 46, () -> x.source(diagrams[3], 22, 0));
+        Check.due("12 the last input", -5, () -> x.source(diagrams[4], -1, 5));
+        Check.due("16 from the first to the last", 1, () -> x.entry(diagrams[0], 0, 2));
+        Check.due("16 added", 2, () -> x.entry(diagrams[2], 0, 1));
+        Check.due("41 isSound", true, x::isSound);
+    }
+
     private static void counts() {
         Stringdrawer x = new Stringdrawer();
         int d = Draw.of(x, "(c|a);(w|w|d)");
@@ -420,5 +471,34 @@ public final class DiagramsTest {
         alike(true, "(d;z)|(z;d)", "(z;d)|(d;z)");
         alike(false, "d;z", "w");
         alike(false, "(z;d)|w", "d;z");
+        String crossed = "(w|x|w);(w|w|x);(w|x|w);(a|a)";
+        alike(false, "(u|z);(c|c);" + crossed + ";(d|n)", "((u;c;a;d)|(z;c;a;n))");
+        alike(false, "(u|u);(c|c);" + crossed + ";(d|d)", "((u;c;a;d)|(u;c;a;d))");
+        alike(true, "(u|u);(c|c);" + crossed + ";(d|d)", "(u|u);x;(c|c);" + crossed + ";(d|d)");
+    }
+
+    /** Rewriting puts boxes behind those to which they lead. */
+    private static void alikeBackwards() {
+        Stringdrawer x = new Stringdrawer();
+        int two = x.box('2');
+        int zero = x.box('z');
+        int any = x.box('u');
+        int toThree = x.rule(two, x.box('3'));
+        int toZero = x.rule(any, zero);
+        int chain = Draw.of(x, "2;4;5");
+        int back = x.rewrite(chain, toThree, 0);
+        int straight = Draw.of(x, "3;4;5");
+        Check.due("29 backwards", "1>1 44 50 3-1 .2", () -> Draw.told(x, back));
+        Check.due("13 backwards", 3, () -> x.depth(back));
+        Check.due("14 backwards", true, () -> x.areAlike(back, straight));
+        Check.due("14 forwards", true, () -> x.areAlike(straight, back));
+        int closed = x.rewrite(Draw.of(x, "(u|u);a;c;(d|n)"), toZero, 0);
+        Check.due("29 backwards, closed", "0>0 u a10,0 c2 d4 n5 z .",
+                () -> Draw.told(x, closed));
+        Check.due("13 backwards, closed", 4, () -> x.depth(closed));
+        Check.due("14 closed", true, () -> x.areAlike(closed, Draw.of(x, "(z|u);a;c;(d|n)")));
+        Check.due("14 closed, not alike", false,
+                () -> x.areAlike(closed, Draw.of(x, "(u|z);a;c;(d|n)")));
+        Check.due("41 isSound", true, x::isSound);
     }
 }

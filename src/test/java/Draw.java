@@ -1,15 +1,20 @@
+import java.util.Arrays;
+
 /**
  * Draws a diagram that is told by a text: a kind is a box, w a wire, x two wires that cross, e
- * nothing; "|" puts beside, ";" puts behind, and brackets come first. Each sign takes one number.
+ * nothing; "|" puts beside, ";" puts behind, and brackets come first. A sign that stands there more
+ * often is drawn once.
  */
 final class Draw {
     private final Stringdrawer drawer;
     private final String text;
+    private final int[] known = new int[128];
     private int at;
 
     private Draw(Stringdrawer drawer, String text) {
         this.drawer = drawer;
-        this.text = text.replace(" ", "");
+        this.text = text;
+        Arrays.fill(known, -1);
     }
 
     static int of(Stringdrawer drawer, String text) {
@@ -91,11 +96,14 @@ final class Draw {
             at++;
             return made;
         }
-        return switch (sign) {
-            case 'w' -> drawer.wires(1);
-            case 'x' -> drawer.crossing(1, 1);
-            case 'e' -> drawer.wires(0);
-            default -> drawer.box(sign);
-        };
+        if (known[sign] < 0) {
+            known[sign] = switch (sign) {
+                case 'w' -> drawer.wires(1);
+                case 'x' -> drawer.crossing(1, 1);
+                case 'e' -> drawer.wires(0);
+                default -> drawer.box(sign);
+            };
+        }
+        return known[sign];
     }
 }

@@ -10,6 +10,7 @@ public final class FilmsTest {
     public static void main(String[] args) {
         simplify();
         simplifyWithoutStep();
+        sixParts();
         simplifyLimits();
         simplifyTooLarge();
         reach();
@@ -87,6 +88,36 @@ public final class FilmsTest {
         Check.due("30 a broken match is none", number, () -> x.simplify(chain, 30));
         Check.due("30 a diagram like it", "1>1 2-1 40 .2", () -> Draw.told(x, number));
         Check.due("32 the film is new", 0, x::steps);
+    }
+
+    /** A broken match is none from the very first call on; and all parts are looked at. */
+    private static void sixParts() {
+        Stringdrawer x = new Stringdrawer();
+        rule(x, "d|d|d|d|d|z", "n|n|n|n|n|u");
+        int pairs = Draw.of(x, "(z;d)|(z;d)|(z;d)|(z;d)|(z;d)");
+        int before = x.diagrams();
+        Check.due("30 all are broken", before, () -> x.simplify(pairs, 1));
+        Check.due("32 no steps", 0, x::steps);
+        int six = x.beside(pairs, Draw.of(x, "z;d"));
+        int made = x.diagrams();
+        Check.due("30 six parts", made, () -> x.simplify(six, 1));
+        Check.due("30 six parts", "0>0 z z z z z d22 n0 n2 n4 n6 n8 u .",
+                () -> Draw.told(x, made));
+        Check.due("30 nothing more", made + 1, () -> x.simplify(made, 30));
+        Check.due("32 no steps", 0, x::steps);
+        Stringdrawer y = new Stringdrawer();
+        rule(y, "2|2|2|2|2|2", "x|x|x");
+        rule(y, "2|2|2|2|2|2", "w|w|w|w|w|w");
+        int twos = Draw.of(y, "2|2|2|2|2|2");
+        int crossed = Draw.of(y, "(w|x|w|w|w);(x|x|x);(w|x|w|w|w)");
+        Check.due("31 one of 720", 1, () -> y.reach(twos, crossed, 1));
+        Check.due("34 one of 720", "0/24", () -> film(y));
+        int shown = y.show(twos);
+        Check.due("35 one of 720", Draw.told(y, crossed), () -> Draw.told(y, shown));
+        Check.due("31 straight", 1, () -> y.reach(twos, y.wires(6), 4));
+        Check.due("34 straight", "1/0", () -> film(y));
+        int single = Draw.of(y, "w|w|w|w|x");
+        Check.due("31 no such wires", NO_ELEMENT, () -> y.reach(twos, single, 4));
     }
 
     private static void simplifyLimits() {
@@ -240,45 +271,56 @@ public final class FilmsTest {
         Check.due("33 to 24 boxes", "0/0 1/0", () -> film(x));
     }
 
-    /** With 30 first steps, the 200th diagram comes among those of two steps. */
     private static void reachMany() {
+        int none = reachMany(false);
+        Check.due("31 some of many are found", true, () -> none > 5 && none < 30);
+        int back = reachMany(true);
+        Check.due("31 some of many are found", true, () -> back > 5 && back < 30);
+    }
+
+    /**
+     * Makes so many first steps that the 200th diagram comes among those of two steps, and compares
+     * with the plain model; returns how many of the goals were found.
+     */
+    private static int reachMany(boolean goesBack) {
         Stringdrawer x = new Stringdrawer();
         Plain model = new Plain();
-        model.box('2');
-        x.box('2');
-        for (char kind = '3'; kind <= '6'; kind++) {
-            model.rule(0, model.box(kind));
-            x.rule(0, x.box(kind));
+        for (char kind = '2'; kind <= '6'; kind++) {
+            model.box(kind);
+            x.box(kind);
+        }
+        for (int other = 1; other < 5; other++) {
+            model.rule(0, other);
+            x.rule(0, other);
+            if (goesBack) {
+                model.rule(other, 0);
+                x.rule(other, 0);
+            }
         }
         model.rule(0, model.wires(1));
         x.rule(0, x.wires(1));
         int start = 0;
         for (int more = 0; more < 5; more++) {
+            x.beside(start, 0);
             start = model.beside(start, 0);
-            x.beside(more == 0 ? 0 : start - 1, 0);
         }
         int first = start;
-        int found = 0;
         int middle = first;
-        while (model.diagrams() < 60) {
-            if (model.diagrams() % 4 == 0 || middle == first) {
-                int rule = model.diagrams() % 5;
-                int match = model.diagrams() % 6;
-                middle = model.rewrite(first, rule, match);
-                x.rewrite(first, rule, match);
-            } else {
-                int rule = model.diagrams() * 3 % 5;
-                int match = model.diagrams() % 5;
-                int goal = model.rewrite(middle, rule, match);
-                x.rewrite(middle, rule, match);
-                Object due = Check.answer(() -> model.reach(first, goal, 4));
-                found += due.equals(2) ? 1 : 0;
-                Check.due("31 of many to " + goal, due, () -> x.reach(first, goal, 4));
-                Check.due("33 34 of many", model.steps(), x::steps);
-            }
+        int found = 0;
+        for (int turn = 0; model.diagrams() < 60; turn++) {
+            int rule = goesBack ? turn % 2 == 0 ? turn % 8 : 8 : turn % 5;
+            int from = turn % 4 == 0 ? first : middle;
+            int match = turn * 3 % 5;
+            Object made = Check.answer(() -> model.rewrite(from, rule, match));
+            Check.due("29 of many", made, () -> x.rewrite(from, rule, match));
+            middle = turn % 4 == 0 ? model.diagrams() - 1 : middle;
+            int goal = model.diagrams() - 1;
+            Object due = Check.answer(() -> model.reach(first, goal, 4));
+            found += due.equals(2) ? 1 : 0;
+            Check.due("31 of many to " + goal, due, () -> x.reach(first, goal, 4));
+            Check.due("32 of many", model.steps(), x::steps);
         }
-        int reached = found;
-        Check.due("31 some are found, some are not", true, () -> reached > 5 && reached < 30);
+        return found;
     }
 
     /** Diagrams that are alike an earlier one are not counted, and not gone on with. */

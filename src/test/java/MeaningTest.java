@@ -9,6 +9,7 @@ public final class MeaningTest {
 
     public static void main(String[] args) {
         matrices();
+        largeMatrices();
         matrixEdges();
         equal();
         apart();
@@ -51,6 +52,30 @@ public final class MeaningTest {
             Check.due("16 matrix " + line, wanted, () -> matrix(x, d));
             Check.due("41 isSound " + line, true, x::isSound);
         }
+    }
+
+    /** Nearly as many conditions as 24 boxes can tell, and most inputs and outputs. */
+    private static void largeMatrices() {
+        Stringdrawer x = new Stringdrawer();
+        int one = Draw.of(x, "c;m");
+        int three = x.then(x.then(one, one), one);
+        int twelve = x.then(x.then(three, three), x.then(three, three));
+        int wires = x.wires(5);
+        int behind = x.beside(twelve, wires);
+        int ahead = x.beside(wires, twelve);
+        int other = x.beside(x.beside(wires, three), x.wires(0));
+        for (int d : new int[] {behind, ahead, other}) {
+            Check.due("16 large", "100000100000,010000010000,001000001000,000100000100,"
+                    + "000010000010,000001000001", () -> matrix(x, d));
+            Check.due("19 large", true, () -> x.isFunction(d));
+        }
+        Check.due("10 24 boxes", 24, () -> x.boxes(ahead));
+        int sum = Draw.of(x, "(s|s|s);(2|3|4|5|6|1);(a|a|a)");
+        int free = x.then(sum, sum);
+        Check.due("10 24 boxes", 24, () -> x.boxes(free));
+        Check.due("16 large", "100000,010000,001000,000100,000010,000001",
+                () -> matrix(x, free));
+        Check.due("41 large", true, x::isSound);
     }
 
     private static void matrixEdges() {

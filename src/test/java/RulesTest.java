@@ -19,6 +19,9 @@ public final class RulesTest {
         rewrite();
         rewriteStraight();
         rewriteLimits();
+        sixParts();
+        backwards();
+        doubled();
         Check.end();
     }
 
@@ -55,7 +58,7 @@ public final class RulesTest {
             Check.due("24 rule two " + number, INDEX, () -> x.rule(two, number));
         }
         Check.due("37 rules", 5, x::rules);
-        Check.due("24 diagrams stay", before + 4, x::diagrams);
+        Check.due("24 rules make no diagrams", before + 3, x::diagrams);
     }
 
     private static void ruleLimits() {
@@ -314,5 +317,54 @@ public final class RulesTest {
         Check.due("29 full, no match", NO_ELEMENT, () -> x.rewrite(most, grow, 24));
         Check.due("29 full, none", INDEX, () -> x.rewrite(60, grow, 24));
         Check.due("29 nothing made", 60, x::diagrams);
+    }
+
+    /** Six parts, inputs and outputs, of which the last ones count as the first ones do. */
+    private static void sixParts() {
+        String six = "(z;d)|(z;d)|(z;d)|(z;d)|(z;d)|(z;d)";
+        matches("d|d|d|d|d|z", six, 720, 3600);
+        matches("z|d|d|d|d|d", six, 720, 3600);
+        matches("2|2|2|2|2|2", "2|2|2|2|2|2", 720, 0);
+        matches("2|3|4|5|6|1", "(2|3|4|5|6|w);(w|w|w|w|1|w)", 0, 1);
+        images("2|3|4|5|6|1", "1|6|5|4|3|2", "5,4,3,2,1,0");
+        rewrite("2|3|4|5|6|1:(1|2|3|4|5|6)", "2|3|4|5|6|1", 0,
+                "6>6 1-1 2-2 3-3 4-4 5-5 6-6 .0,2,4,6,8,10");
+        rewrite("2|3|4|5|6|1:(w|w|w|w|w|w)", "(2|3|4|5|6|1);(1|6|5|4|3|2)", 0,
+                "6>6 1-1 6-2 5-3 4-4 3-5 2-6 .0,2,4,6,8,10");
+    }
+
+    /** A left diagram that came from rewriting has boxes ahead of those that lead to them. */
+    private static void backwards() {
+        Stringdrawer x = new Stringdrawer();
+        int two = x.box('2');
+        int toThree = x.rule(two, x.box('3'));
+        int left = x.rewrite(Draw.of(x, "(2|w);a"), toThree, 0);
+        Check.due("29 backwards", "2>1 a2,-2 3-1 .0", () -> Draw.told(x, left));
+        int rule = x.rule(left, Draw.of(x, "x;(w|5);a"));
+        int d = Draw.of(x, "(3|3);a;6;c;(3|w);a;4");
+        Check.due("26 backwards", 2, () -> x.matches(d, rule));
+        Check.due("28 backwards", 2, () -> x.image(d, rule, 0, 0));
+        Check.due("28 backwards", 0, () -> x.image(d, rule, 0, 1));
+        Check.due("28 backwards", 6, () -> x.image(d, rule, 1, 0));
+        Check.due("28 backwards", 5, () -> x.image(d, rule, 1, 1));
+        Check.due("27 backwards", 0, () -> x.broken(d, rule));
+        int made = x.rewrite(d, rule, 1);
+        Check.due("29 backwards", "2>1 3-1 3-2 a0,2 64 c6 414 58 a9,12 .10",
+                () -> Draw.told(x, made));
+        int leftToo = x.rewrite(Draw.of(x, "2;c"), toThree, 0);
+        int forked = x.rule(leftToo, Draw.of(x, "c"));
+        Check.due("29 backwards", "1>2 c2 3-1 .0,1", () -> Draw.told(x, leftToo));
+        Check.due("26 backwards", 1, () -> x.matches(leftToo, forked));
+        Check.due("26 backwards", 0, () -> x.matches(d, forked));
+    }
+
+    /** Different boxes need different images, also where all wires would agree. */
+    private static void doubled() {
+        String doubled = "(c|c);(w|x|w);(w|w|x);(w|x|w);(a|a)";
+        matches(doubled, "c;a", 0, 0);
+        matches(doubled, "(c;a)|(c;a)", 0, 0);
+        matches(doubled, doubled, 2, 0);
+        matches("(c;a)|(c;a)", doubled, 0, 0);
+        matches("c;a", doubled, 0, 0);
     }
 }
