@@ -1209,8 +1209,11 @@ public final class Stringdrawer {
         private Rule rule = new Rule(there, there);
         private int queued;
         private int covered;
+        /** From this part on, twins are taken in one order alone. */
         private int sortedFrom;
+        /** If a part fits nowhere, the rows of those behind it are left as they were. */
         private boolean possible;
+        /** Whether broken matches are left out. */
         private boolean strict;
 
         void prepare(Diagram diagram, Rule asked) {
@@ -1487,10 +1490,10 @@ public final class Stringdrawer {
 
         /** What was a source in the diagram, or came out of the images, comes from here now. */
         private int sourceFor(int source, int shift) {
-            int start = source < 0 ? 0 : at(fresh, source >> 1);
             if (source < 0) {
                 return source;
             }
+            int start = at(fresh, source >> 1);
             if (start >= 0) {
                 return start + (source & 1);
             }

@@ -25,6 +25,7 @@ public final class DiagramsTest {
         alike();
         alikeParts();
         alikeBackwards();
+        alikeFromTheEnd();
         Check.end();
     }
 
@@ -500,5 +501,22 @@ public final class DiagramsTest {
         Check.due("14 closed, not alike", false,
                 () -> x.areAlike(closed, Draw.of(x, "(u|z);a;c;(d|n)")));
         Check.due("41 isSound", true, x::isSound);
+    }
+
+    /** Parts whose first box is not the one from which all ways lead. */
+    private static void alikeFromTheEnd() {
+        Stringdrawer x = new Stringdrawer();
+        int zero = x.box('z');
+        int any = x.box('u');
+        int zeros = x.rule(zero, zero);
+        int anys = x.rule(any, any);
+        int one = x.rewrite(Draw.of(x, "(z;2;d)|(u;2;d)"), zeros, 0);
+        int first = x.rewrite(one, anys, 0);
+        int other = x.rewrite(Draw.of(x, "(u;2;d)|(z;2;d)"), zeros, 0);
+        int second = x.rewrite(other, anys, 0);
+        Check.due("29 from the end", "0>0 28 d0 210 d4 z u .", () -> Draw.told(x, first));
+        Check.due("29 from the end", "0>0 210 d0 28 d4 z u .", () -> Draw.told(x, second));
+        Check.due("14 from the end", true, () -> x.areAlike(first, second));
+        Check.due("14 from the end", true, () -> x.areAlike(second, first));
     }
 }

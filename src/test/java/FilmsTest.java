@@ -1,3 +1,5 @@
+import java.util.List;
+
 /** Promises 30 to 35 and 41: simplifying, shortest films, showing them again, and soundness. */
 public final class FilmsTest {
     private static final String INDEX = "throws.IndexOutOfBoundsException";
@@ -116,6 +118,12 @@ public final class FilmsTest {
         Check.due("35 one of 720", Draw.told(y, crossed), () -> Draw.told(y, shown));
         Check.due("31 straight", 1, () -> y.reach(twos, y.wires(6), 4));
         Check.due("34 straight", "1/0", () -> film(y));
+        Stringdrawer seven = new Stringdrawer();
+        rule(seven, "z|d|d|d|d|d|d", "z|d|d|d|d|d|n");
+        int from = Draw.of(seven, "z|d|d|d|d|d|d");
+        int to = Draw.of(seven, "z|d|d|d|d|n|d");
+        Check.due("31 seven parts", 1, () -> seven.reach(from, to, 4));
+        Check.due("34 seven parts", "0/1", () -> film(seven));
         int single = Draw.of(y, "w|w|w|w|x");
         Check.due("31 no such wires", NO_ELEMENT, () -> y.reach(twos, single, 4));
     }
@@ -272,17 +280,15 @@ public final class FilmsTest {
     }
 
     private static void reachMany() {
-        int none = reachMany(false);
-        Check.due("31 some of many are found", true, () -> none > 5 && none < 30);
-        int back = reachMany(true);
-        Check.due("31 some of many are found", true, () -> back > 5 && back < 30);
+        reachMany(false, 1);
+        reachMany(true, 0);
     }
 
     /**
-     * Makes so many first steps that the 200th diagram comes among those of two steps, and compares
-     * with the plain model; returns how many of the goals were found.
+     * Makes so many first steps that the 200th diagram comes among those of two steps or three, and
+     * looks for those that come shortly before and behind it, as the plain model tells them.
      */
-    private static int reachMany(boolean goesBack) {
+    private static void reachMany(boolean goesBack, int straight) {
         Stringdrawer x = new Stringdrawer();
         Plain model = new Plain();
         for (char kind = '2'; kind <= '6'; kind++) {
@@ -297,30 +303,35 @@ public final class FilmsTest {
                 x.rule(other, 0);
             }
         }
-        model.rule(0, model.wires(1));
-        x.rule(0, x.wires(1));
+        if (straight > 0) {
+            model.rule(0, model.wires(1));
+            x.rule(0, x.wires(1));
+        }
         int start = 0;
         for (int more = 0; more < 5; more++) {
             x.beside(start, 0);
             start = model.beside(start, 0);
         }
         int first = start;
-        int middle = first;
-        int found = 0;
-        for (int turn = 0; model.diagrams() < 60; turn++) {
-            int rule = goesBack ? turn % 2 == 0 ? turn % 8 : 8 : turn % 5;
-            int from = turn % 4 == 0 ? first : middle;
-            int match = turn * 3 % 5;
-            Object made = Check.answer(() -> model.rewrite(from, rule, match));
-            Check.due("29 of many", made, () -> x.rewrite(from, rule, match));
-            middle = turn % 4 == 0 ? model.diagrams() - 1 : middle;
-            int goal = model.diagrams() - 1;
-            Object due = Check.answer(() -> model.reach(first, goal, 4));
-            found += due.equals(2) ? 1 : 0;
-            Check.due("31 of many to " + goal, due, () -> x.reach(first, goal, 4));
-            Check.due("32 of many", model.steps(), x::steps);
+        List<List<Plain.Step>> films = model.films(first, 4, 205);
+        for (int index : new int[] {0, 1, 2, 31, 32, 150, 196, 197, 198, 199, 200, 201, 202}) {
+            int goal = first;
+            for (Plain.Step step : films.get(index)) {
+                goal = x.rewrite(goal, step.rule(), step.match());
+            }
+            int asked = goal;
+            int length = films.get(index).size();
+            StringBuilder film = new StringBuilder();
+            for (Plain.Step step : films.get(index)) {
+                film.append(film.length() > 0 ? " " : "").append(step.rule()).append('/')
+                        .append(step.match());
+            }
+            String before = film(x);
+            String wanted = index < 200 ? film.toString() : before;
+            Check.due("31 number " + index + " of many", index < 200 ? length : NO_ELEMENT,
+                    () -> x.reach(first, asked, 4));
+            Check.due("33 34 number " + index + " of many", wanted, () -> film(x));
         }
-        return found;
     }
 
     /** Diagrams that are alike an earlier one are not counted, and not gone on with. */

@@ -1,4 +1,3 @@
-import java.util.ArrayDeque;
 import java.util.ArrayList;
 import java.util.Arrays;
 import java.util.HashSet;
@@ -846,37 +845,48 @@ final class Plain {
     }
 
     private List<Step> search(D start, D goal, int most) {
-        List<D> seen = new ArrayList<>();
-        ArrayDeque<Come> waiting = new ArrayDeque<>();
-        seen.add(start);
-        waiting.add(new Come(start, new ArrayList<>()));
-        if (alike(start, goal)) {
-            return new ArrayList<>();
+        for (Come come : coming(start, goal, most, 200)) {
+            if (alike(come.d, goal)) {
+                return come.steps;
+            }
         }
-        while (!waiting.isEmpty()) {
-            Come come = waiting.remove();
+        return null;
+    }
+
+    /** The films that lead to the diagrams that come from one, of which the first ones differ. */
+    List<List<Step>> films(int first, int most, int many) {
+        List<List<Step>> films = new ArrayList<>();
+        for (Come come : coming(at(first), null, most, many)) {
+            films.add(come.steps);
+        }
+        return films;
+    }
+
+    /** All that come, in their order, up to the goal or up to so many. */
+    private List<Come> coming(D start, D goal, int most, int many) {
+        List<Come> all = new ArrayList<>();
+        all.add(new Come(start, new ArrayList<>()));
+        for (int index = 0; index < all.size(); index++) {
+            Come come = all.get(index);
             for (int rule = 0; rule < rules.size() && come.steps.size() < most; rule++) {
                 D[] r = rules.get(rule);
                 List<List<Integer>> found =
                         large(come.d, r) ? new ArrayList<>() : unbroken(come.d, r);
                 for (int match = 0; match < found.size(); match++) {
+                    if (all.size() == many || goal != null
+                            && alike(all.get(all.size() - 1).d, goal)) {
+                        return all;
+                    }
                     D next = rewritten(come.d, r, found.get(match));
-                    if (seen.stream().noneMatch(other -> alike(other, next))) {
+                    if (all.stream().noneMatch(other -> alike(other.d, next))) {
                         List<Step> steps = new ArrayList<>(come.steps);
                         steps.add(new Step(rule, match));
-                        if (alike(next, goal)) {
-                            return steps;
-                        }
-                        seen.add(next);
-                        waiting.add(new Come(next, steps));
-                        if (seen.size() == 200) {
-                            return null;
-                        }
+                        all.add(new Come(next, steps));
                     }
                 }
             }
         }
-        return null;
+        return all;
     }
 
     int steps() {
