@@ -1671,10 +1671,13 @@ public final class Stringdrawer {
             put(lengths, 0, 0);
             count = 1;
             int found = likeness.test(start, goal) ? 0 : -1;
-            for (int parent = 0; parent < count && found < 0; parent++) {
-                boolean goesOn = at(lengths, parent) < most;
-                for (int rule = 0; rule < madeCount && rule < made.length && goesOn; rule++) {
-                    found = made[rule] == null ? -1 : goOn(parent, made[rule], rule, goal);
+            boolean goesOn = found < 0;
+            for (int parent = 0; parent < count && goesOn; parent++) {
+                boolean isShort = at(lengths, parent) < most;
+                for (int rule = 0; rule < madeCount && isShort && goesOn; rule++) {
+                    if (rule < made.length && made[rule] != null) {
+                        found = goOn(parent, made[rule], rule, goal);
+                    }
                     goesOn = found < 0 && count < MOST_COME;
                 }
             }

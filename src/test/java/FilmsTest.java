@@ -280,58 +280,64 @@ public final class FilmsTest {
     }
 
     private static void reachMany() {
-        reachMany(false, 1);
-        reachMany(true, 0);
+        reachMany("23 24 25 26 21");
+        reachMany("23 32 24 42 25 52 26 62");
+        reachMany("40 23 24 26 21 25");
+        reachMany("60 50 23 24 25 26 21");
+        reachMany("33 34 46 24 23 25 62");
     }
 
     /**
      * Makes so many first steps that the 200th diagram comes among those of two steps or three, and
-     * looks for those that come shortly before and behind it, as the plain model tells them.
+     * looks for those that come ahead of it and behind it, as the plain model tells them.
      */
-    private static void reachMany(boolean goesBack, int straight) {
-        Stringdrawer x = new Stringdrawer();
+    private static void reachMany(String rules) {
         Plain model = new Plain();
-        for (char kind = '2'; kind <= '6'; kind++) {
+        for (char kind = '0'; kind <= '6'; kind++) {
             model.box(kind);
+        }
+        for (String rule : rules.split(" ")) {
+            model.rule(rule.charAt(0) - '0', rule.charAt(1) - '0');
+        }
+        int start = 2;
+        for (int more = 0; more < 5; more++) {
+            start = model.beside(start, 2);
+        }
+        List<List<Plain.Step>> films = model.films(start, 4, 330);
+        for (int index = 0; index < films.size(); index += index < 195 ? 13 : 1) {
+            reachNumber(manyRules(rules), films.get(index), index);
+        }
+    }
+
+    private static Stringdrawer manyRules(String rules) {
+        Stringdrawer x = new Stringdrawer();
+        for (char kind = '0'; kind <= '6'; kind++) {
             x.box(kind);
         }
-        for (int other = 1; other < 5; other++) {
-            model.rule(0, other);
-            x.rule(0, other);
-            if (goesBack) {
-                model.rule(other, 0);
-                x.rule(other, 0);
-            }
+        for (String rule : rules.split(" ")) {
+            x.rule(rule.charAt(0) - '0', rule.charAt(1) - '0');
         }
-        if (straight > 0) {
-            model.rule(0, model.wires(1));
-            x.rule(0, x.wires(1));
-        }
-        int start = 0;
+        int start = 2;
         for (int more = 0; more < 5; more++) {
-            x.beside(start, 0);
-            start = model.beside(start, 0);
+            start = x.beside(start, 2);
         }
-        int first = start;
-        List<List<Plain.Step>> films = model.films(first, 4, 205);
-        for (int index : new int[] {0, 1, 2, 31, 32, 150, 196, 197, 198, 199, 200, 201, 202}) {
-            int goal = first;
-            for (Plain.Step step : films.get(index)) {
-                goal = x.rewrite(goal, step.rule(), step.match());
-            }
-            int asked = goal;
-            int length = films.get(index).size();
-            StringBuilder film = new StringBuilder();
-            for (Plain.Step step : films.get(index)) {
-                film.append(film.length() > 0 ? " " : "").append(step.rule()).append('/')
-                        .append(step.match());
-            }
-            String before = film(x);
-            String wanted = index < 200 ? film.toString() : before;
-            Check.due("31 number " + index + " of many", index < 200 ? length : NO_ELEMENT,
-                    () -> x.reach(first, asked, 4));
-            Check.due("33 34 number " + index + " of many", wanted, () -> film(x));
+        return x;
+    }
+
+    private static void reachNumber(Stringdrawer x, List<Plain.Step> steps, int index) {
+        int first = x.diagrams() - 1;
+        int goal = first;
+        StringBuilder text = new StringBuilder();
+        for (Plain.Step step : steps) {
+            goal = x.rewrite(goal, step.rule(), step.match());
+            text.append(text.length() > 0 ? " " : "").append(step.rule()).append('/')
+                    .append(step.match());
         }
+        int asked = goal;
+        Check.due("31 number " + index + " of many", index < 200 ? steps.size() : NO_ELEMENT,
+                () -> x.reach(first, asked, 4));
+        Check.due("33 34 number " + index + " of many", index < 200 ? text.toString() : "",
+                () -> film(x));
     }
 
     /** Diagrams that are alike an earlier one are not counted, and not gone on with. */
