@@ -6,19 +6,86 @@ import java.util.Arrays;
  * often is drawn once.
  */
 final class Draw {
-    private final Stringdrawer drawer;
+    /** What the program and the plain model have in common, as far as it is needed here. */
+    private interface Room {
+        int box(char kind);
+
+        int wires(int many);
+
+        int crossing(int first, int second);
+
+        int then(int first, int second);
+
+        int beside(int first, int second);
+    }
+
+    private final Room room;
     private final String text;
     private final int[] known = new int[128];
     private int at;
 
-    private Draw(Stringdrawer drawer, String text) {
-        this.drawer = drawer;
+    private Draw(Room room, String text) {
+        this.room = room;
         this.text = text;
         Arrays.fill(known, -1);
     }
 
     static int of(Stringdrawer drawer, String text) {
-        return new Draw(drawer, text).row();
+        return new Draw(new Room() {
+            @Override
+            public int box(char kind) {
+                return drawer.box(kind);
+            }
+
+            @Override
+            public int wires(int many) {
+                return drawer.wires(many);
+            }
+
+            @Override
+            public int crossing(int first, int second) {
+                return drawer.crossing(first, second);
+            }
+
+            @Override
+            public int then(int first, int second) {
+                return drawer.then(first, second);
+            }
+
+            @Override
+            public int beside(int first, int second) {
+                return drawer.beside(first, second);
+            }
+        }, text).row();
+    }
+
+    static int of(Plain plain, String text) {
+        return new Draw(new Room() {
+            @Override
+            public int box(char kind) {
+                return plain.box(kind);
+            }
+
+            @Override
+            public int wires(int many) {
+                return plain.wires(many);
+            }
+
+            @Override
+            public int crossing(int first, int second) {
+                return plain.crossing(first, second);
+            }
+
+            @Override
+            public int then(int first, int second) {
+                return plain.then(first, second);
+            }
+
+            @Override
+            public int beside(int first, int second) {
+                return plain.beside(first, second);
+            }
+        }, text).row();
     }
 
     /** Draws boxes until the room has so many diagrams. */
@@ -75,7 +142,7 @@ final class Draw {
         int made = column();
         while (at < text.length() && text.charAt(at) == ';') {
             at++;
-            made = drawer.then(made, column());
+            made = room.then(made, column());
         }
         return made;
     }
@@ -84,7 +151,7 @@ final class Draw {
         int made = piece();
         while (at < text.length() && text.charAt(at) == '|') {
             at++;
-            made = drawer.beside(made, piece());
+            made = room.beside(made, piece());
         }
         return made;
     }
@@ -98,10 +165,10 @@ final class Draw {
         }
         if (known[sign] < 0) {
             known[sign] = switch (sign) {
-                case 'w' -> drawer.wires(1);
-                case 'x' -> drawer.crossing(1, 1);
-                case 'e' -> drawer.wires(0);
-                default -> drawer.box(sign);
+                case 'w' -> room.wires(1);
+                case 'x' -> room.crossing(1, 1);
+                case 'e' -> room.wires(0);
+                default -> room.box(sign);
             };
         }
         return known[sign];
