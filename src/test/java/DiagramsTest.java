@@ -1,3 +1,6 @@
+import java.util.ArrayList;
+import java.util.List;
+
 /** Promises 1 to 14, 36 and 38: how diagrams are made, and what they are made of. */
 public final class DiagramsTest {
     private static final String INDEX = "throws.IndexOutOfBoundsException";
@@ -24,6 +27,9 @@ public final class DiagramsTest {
         depth();
         alike();
         alikeParts();
+        alikeDoubled();
+        alikeWires();
+        alikeManyParts();
         alikeBackwards();
         alikeFromTheEnd();
         Check.end();
@@ -476,6 +482,55 @@ public final class DiagramsTest {
         alike(false, "(u|z);(c|c);" + crossed + ";(d|n)", "((u;c;a;d)|(z;c;a;n))");
         alike(false, "(u|u);(c|c);" + crossed + ";(d|d)", "((u;c;a;d)|(u;c;a;d))");
         alike(true, "(u|u);(c|c);" + crossed + ";(d|d)", "(u|u);x;(c|c);" + crossed + ";(d|d)");
+    }
+
+    /** Each box of one is put to just one box of the other one, also where all wires agree. */
+    private static void alikeDoubled() {
+        String swapped = "(w|w|x);(w|x|w);(w|w|x)";
+        String two = "(c;a)|(c;a)";
+        alike(false, "(c|c);" + swapped + ";(a|a)", two);
+        alike(false, "(u|u);(c|c);" + swapped + ";(a|a);(d|d)", "(u|u);(" + two + ");(d|d)");
+        alike(true, "(u|u);(c|c);(x|x);" + swapped + ";(a|a);(d|d)",
+                "(u|u);(c|c);" + swapped + ";(x|x);(a|a);(d|d)");
+    }
+
+    /** All ways to lay a box and a wire: alike only if each wire leads from and to the same. */
+    private static void alikeWires() {
+        String[] starts = {"w|w", "x"};
+        String[] boxes = {"c|w", "w|c", "s|w", "w|s"};
+        String[] ends = {"w|w|w", "x|w", "w|x", "(x|w);(w|x)", "(w|x);(x|w)",
+            "(x|w);(w|x);(x|w)"};
+        List<String> laid = new ArrayList<>();
+        for (String box : boxes) {
+            for (String start : starts) {
+                for (String end : ends) {
+                    laid.add("(" + start + ");(" + box + ");(" + end + ")");
+                }
+            }
+        }
+        for (String one : laid) {
+            for (String other : laid) {
+                Stringdrawer x = new Stringdrawer();
+                int first = Draw.of(x, one);
+                int second = Draw.of(x, other);
+                Check.due("14 " + one + " and " + other,
+                        Draw.told(x, first).equals(Draw.told(x, second)),
+                        () -> x.areAlike(first, second));
+            }
+        }
+    }
+
+    /** Many parts fail to be put to one that differs in its last box alone. */
+    private static void alikeManyParts() {
+        String part = "(z;1;d)|(z;1;d)|(z;1;d)|(z;1;d)|(z;1;d)|(z;1;d)";
+        alike(true, part + "|(z;1;n)|(z;2;n)", "(z;2;n)|(z;1;n)|" + part);
+        alike(false, part + "|(z;1;n)|(z;2;n)", "(z;1;n)|(z;1;n)|" + part);
+        alike(false, part + "|(z;1;n)|(z;2;n)", part + "|(z;1;n)|(z;2;d)");
+        alike(true, part + "|(z;1;n)|(z;1;n)", "(z;1;n)|" + part + "|(z;1;n)");
+        String four = "(z;c;(d|n))|(z;c;(d|n))|(z;c;(d|n))|(z;c;(d|n))|(z;c;(d|n))";
+        alike(true, four + "|(z;c;(n|d))", "(z;c;(n|d))|" + four);
+        alike(false, four + "|(z;c;(n|d))", "(z;c;(n|n))|" + four);
+        alike(false, four + "|(z;c;(n|d))", "(z;c;(d|n))|" + four);
     }
 
     /** Rewriting puts boxes behind those to which they lead. */

@@ -71,6 +71,12 @@ public final class FilmsTest {
         int lowest = Draw.of(x, "1;6;6;2;3");
         Check.due("30 another one", x.diagrams(), () -> x.simplify(lowest, 30));
         Check.due("30 the lowest rule first", "0/0 1/0 2/0 2/0", () -> film(x));
+        int ones = Draw.of(x, "1;6;6");
+        Check.due("30 without the lowest rule", x.diagrams(), () -> x.simplify(ones, 30));
+        Check.due("33 the first step by another rule", "1/0 2/0 2/0", () -> film(x));
+        int single = Draw.of(x, "2;1");
+        Check.due("30 by the last rule alone", x.diagrams(), () -> x.simplify(single, 30));
+        Check.due("33 the last rule alone", "2/0", () -> film(x));
     }
 
     private static void simplifyWithoutStep() {

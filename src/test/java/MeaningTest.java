@@ -10,6 +10,7 @@ public final class MeaningTest {
     public static void main(String[] args) {
         matrices();
         largeMatrices();
+        freeMatrices();
         matrixEdges();
         equal();
         apart();
@@ -78,6 +79,22 @@ public final class MeaningTest {
         Check.due("41 large", true, x::isSound);
     }
 
+    /** Twelve boxes that leave a value open, one behind the other, at most inputs and outputs. */
+    private static void freeMatrices() {
+        for (String wire : new String[] {"s;(d|w);s;(d|w)", "s;(w|d);s;(w|d)", "d;u;d;u",
+            "s;(d|w);d;u"}) {
+            Stringdrawer x = new Stringdrawer();
+            int one = Draw.of(x, wire);
+            int two = x.beside(one, one);
+            int six = x.beside(two, x.beside(two, two));
+            int turned = x.turn(six);
+            Check.due("10 24 boxes", 24, () -> x.boxes(six));
+            Check.due("15 free " + wire, 12, () -> x.rank(six));
+            Check.due("15 turned " + wire, 12, () -> x.rank(turned));
+            Check.due("41 free " + wire, true, x::isSound);
+        }
+    }
+
     private static void matrixEdges() {
         Stringdrawer x = new Stringdrawer();
         int a = x.box('a');
@@ -135,6 +152,9 @@ public final class MeaningTest {
         equal(true, "a;2", "(2|2);a");
         equal(true, "a;c", "(c|c);(w|x|w);(a|a)");
         equal(false, "0", "n;u");
+        equal(false, "w", "n;u");
+        equal(false, "w", "0");
+        equal(false, "w|u", "(n;u)|u");
         equal(false, "s", "c");
         Stringdrawer x = new Stringdrawer();
         int c = x.box('c');
@@ -328,5 +348,11 @@ public final class MeaningTest {
         Check.due("40 four", 9.0 / 4.0, x::meanRank);
         Check.answer(() -> x.then(2, 0));
         Check.due("40 nothing made", 9.0 / 4.0, x::meanRank);
+        Stringdrawer y = new Stringdrawer();
+        y.wires(5);
+        Check.due("40 the first one", 5.0, y::meanRank);
+        y.box('z');
+        y.box('z');
+        Check.due("40 the first of three", 5.0 / 3.0, y::meanRank);
     }
 }

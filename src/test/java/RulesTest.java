@@ -21,6 +21,7 @@ public final class RulesTest {
         rewriteLimits();
         sixParts();
         backwards();
+        brokenBackwards();
         doubled();
         Check.end();
     }
@@ -39,6 +40,8 @@ public final class RulesTest {
         int closed = Draw.of(x, "z;d");
         int none = x.wires(0);
         int straight = Draw.of(x, "2|w");
+        int straightToo = Draw.of(x, "w|2");
+        int crossed = Draw.of(x, "(w|2);x");
         int wires = x.wires(2);
         int before = x.diagrams();
         Check.due("24 box to wire", 0, () -> x.rule(two, wire));
@@ -47,6 +50,8 @@ public final class RulesTest {
         Check.due("24 no boxes", UNSUPPORTED, () -> x.rule(wire, two));
         Check.due("24 nothing", UNSUPPORTED, () -> x.rule(none, none));
         Check.due("24 a straight wire", UNSUPPORTED, () -> x.rule(straight, wires));
+        Check.due("24 a straight wire", UNSUPPORTED, () -> x.rule(straightToo, wires));
+        Check.due("24 a straight wire that crosses", UNSUPPORTED, () -> x.rule(crossed, wires));
         Check.due("24 not as many", UNSUPPORTED, () -> x.rule(c, wire));
         Check.due("24 not as many inputs", UNSUPPORTED, () -> x.rule(c, wires));
         Check.due("24 not as many outputs", UNSUPPORTED, () -> x.rule(x.box('d'), two));
@@ -111,6 +116,13 @@ public final class RulesTest {
         Check.due("39 two of four", 0.5f, x::trueShare);
         rule(x, "1", "w");
         Check.due("39 three of five", 3.0f / 5.0f, x::trueShare);
+        Stringdrawer y = new Stringdrawer();
+        rule(y, "2;3", "6");
+        Check.due("39 one of one", 1.0f, y::trueShare);
+        rule(y, "2", "3");
+        rule(y, "3", "2");
+        Check.due("39 the first of three", 1.0f / 3.0f, y::trueShare);
+        Check.due("39 as before", 1.0f / 3.0f, y::trueShare);
     }
 
     private static void matches(String left, String diagram, int matches, int broken) {
@@ -166,6 +178,49 @@ public final class RulesTest {
         matches("d|u|z|n", "(u;d)|(z;n)", 0, 1);
         matches("d|n", "(u;d)|(z;n)", 1, 0);
         matches("(2|3);(4|5)", "(2|3|2|3);(4|5|4|5)", 4, 0);
+        matches("2|3", "2;c;(w|3)", 0, 1);
+        matches("2|3", "2;c;(3|w)", 0, 1);
+        matches("2|3", "2;s;(d|(c;(d|3)))", 0, 1);
+        matches("2|3", "2;c;(d|w);4;(z|w);a;3", 0, 1);
+        matches("c|3", "c;(w|3)", 0, 1);
+        matches("c|3", "c;(3|w)", 0, 1);
+        matches("c|3", "c;(d|(4;3))", 0, 1);
+        matches("(c;(w|2))|3", "c;(w|(2;3))", 0, 1);
+        matches("(c;(w|2))|3", "c;((4;3)|2)", 0, 1);
+        matches("(c;(2|w))|3", "c;(2|(4;3))", 0, 1);
+    }
+
+    /**
+     * Rewriting puts boxes behind those to which they lead, so that a way leads to the box 0. Each
+     * box that is named is taken out and put in again, behind the other ones.
+     */
+    private static void broken(String renewed, String diagram, String told, String left, int due) {
+        Stringdrawer x = new Stringdrawer();
+        int made = Draw.of(x, diagram);
+        for (char kind : renewed.toCharArray()) {
+            int box = x.box(kind);
+            made = x.rewrite(made, x.rule(box, box), 0);
+        }
+        int d = made;
+        int taken = Draw.of(x, left);
+        int rule = x.rule(taken, taken);
+        Check.due("29 " + renewed + " in " + diagram, told, () -> Draw.told(x, d));
+        Check.due("26 " + left + " in " + told, 0, () -> x.matches(d, rule));
+        Check.due("27 " + left + " in " + told, due, () -> x.broken(d, rule));
+        Check.due("28 " + left + " in " + told, NO_ELEMENT, () -> x.image(d, rule, 0, 0));
+    }
+
+    private static void brokenBackwards() {
+        broken("2", "2;3", "1>1 32 2-1 .0", "2|3", 1);
+        broken("2", "2;(3|z);a;5;3", "1>1 310 z a0,2 54 36 2-1 .8", "2|3", 2);
+        broken("2", "(2;5;3)|4", "2>2 56 30 4-2 2-1 .2,4", "2|3|4", 1);
+        broken("52", "2;5;3", "1>1 32 54 2-1 .0", "2|3", 1);
+        broken("32", "2;5;3", "1>1 54 30 2-1 .2", "2|3", 1);
+        broken("2", "2;d", "1>0 d2 2-1 .", "2|d", 1);
+        broken("c", "c;(2|d)", "1>1 24 d5 c-1 .0", "c|2", 1);
+        broken("c", "c;(d|2)", "1>1 d4 25 c-1 .2", "c|2", 1);
+        broken("c", "c;(d|2)", "1>1 d4 25 c-1 .2", "c|d", 1);
+        broken("3", "2;3;4", "1>1 2-1 44 30 .2", "2|4", 1);
     }
 
     private static void matchLimits() {
