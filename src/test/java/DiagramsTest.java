@@ -441,6 +441,18 @@ public final class DiagramsTest {
         alike(false, "w|w", "x");
         alike(true, "x;x", "w|w");
         alike(true, "e", "e");
+        alike(false, "e", "w");
+        alike(false, "e", "z;d");
+        alike(false, "w", "w|w");
+        alike(false, "z", "d");
+        alike(false, "d|z", "z");
+        alike(true, "d|z", "z|d");
+        alike(true, "d|z", "d;z");
+        alike(false, "2", "2;2");
+        alike(false, "w|w|w|w|w|w", "w|w|w|w|x");
+        alike(true, "(w|w|w|w|x);(w|w|w|w|x)", "w|w|w|w|w|w");
+        alike(false, "d|w", "w|d");
+        alike(false, "z|w", "w|z");
         alike(false, "c", "s");
         alike(false, "z", "u");
         alike(false, "2", "3");
@@ -527,6 +539,8 @@ public final class DiagramsTest {
         alike(false, part + "|(z;1;n)|(z;2;n)", "(z;1;n)|(z;1;n)|" + part);
         alike(false, part + "|(z;1;n)|(z;2;n)", part + "|(z;1;n)|(z;2;d)");
         alike(true, part + "|(z;1;n)|(z;1;n)", "(z;1;n)|" + part + "|(z;1;n)");
+        alike(false, part + "|(z;2;n)|(z;3;d)", "(z;2;d)|(z;3;n)|" + part);
+        alike(true, part + "|(z;2;n)|(z;3;d)", "(z;3;d)|(z;2;n)|" + part);
         String four = "(z;c;(d|n))|(z;c;(d|n))|(z;c;(d|n))|(z;c;(d|n))|(z;c;(d|n))";
         alike(true, four + "|(z;c;(n|d))", "(z;c;(n|d))|" + four);
         alike(false, four + "|(z;c;(n|d))", "(z;c;(n|n))|" + four);

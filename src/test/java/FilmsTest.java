@@ -226,6 +226,30 @@ public final class FilmsTest {
         Check.due("33 the first of many", "0/0 0/0 1/0", () -> film(x));
         Check.due("31 four steps", 4, () -> x.reach(d, fives, 4));
         Check.due("33 the first of many", "0/0 0/0 1/0 1/0", () -> film(x));
+        reachFirst("2:4 2:3 3:5 4:5", "2", "5", "0/0 3/0");
+        reachFirst("3:5 4:5 2:4 2:3", "2", "5", "2/0 1/0");
+        reachFirst("2:3 2:3 2:4", "2|2", "4|3", "0/1 2/0");
+        reachFirst("2:4 2:3", "2|2", "4|3", "0/0 1/0");
+        reachFirst("2:3 2:4", "2|2", "4|3", "0/1 1/0");
+        reachFirst("2|2:3|4", "2|2", "4|3", "0/1");
+        reachFirst("2|2:3|3", "2|2|2", "3|2|3", "0/1");
+        reachFirst("2:2;2 2;2:3", "2;2", "3;2;2", "0/0 0/0 1/0");
+        reachFirst("2:2;2 2;2:3", "2;2", "2;2;3", "0/0 0/0 1/2");
+    }
+
+    private static void reachFirst(String rules, String from, String to, String due) {
+        Stringdrawer x = new Stringdrawer();
+        for (String line : rules.split(" ")) {
+            rule(x, line.split(":")[0], line.split(":")[1]);
+        }
+        int start = Draw.of(x, from);
+        int goal = Draw.of(x, to);
+        Object steps = Check.answer(() -> x.reach(start, goal, 4));
+        Check.due("31 " + rules + " from " + from + " to " + to, due.split(" ").length,
+                () -> steps);
+        Check.due("33 34 " + rules + " from " + from + " to " + to, due, () -> film(x));
+        int shown = x.show(start);
+        Check.due("35 " + rules + " from " + from, true, () -> x.areAlike(shown, goal));
     }
 
     private static void reachLimits() {
