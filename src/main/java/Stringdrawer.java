@@ -50,7 +50,7 @@ public final class Stringdrawer {
     private final Meaning meaning = new Meaning();
     private final Matching matching = new Matching();
     private final Likeness likeness = new Likeness();
-    private final Search search = new Search(matching, likeness);
+    private final Search search = new Search();
     private final Film film = new Film();
     private final Film trial = new Film();
     private final Diagram draft = new Diagram();
@@ -1201,12 +1201,14 @@ public final class Stringdrawer {
         private final int[] twins = new int[MOST_BOXES];
         private final int[] turns = new int[MOST_BOXES];
         private final int[] spots = new int[MOST_BOXES];
+        private final int[] kept = new int[MOST_BOXES];
+        private final int[] copies = new int[MOST_BOXES];
         private final int[] images = new int[MOST_BOXES];
         private final int[] queue = new int[MOST_BOXES];
         private final int[] fresh = new int[MOST_BOXES];
         private final int[] entries = new int[MOST_EDGE];
         private Diagram there = new Diagram();
-        private Rule rule = new Rule(there, there);
+        private Rule rule = new Rule(new Diagram(), new Diagram());
         private int queued;
         private int covered;
         /** From this part on, twins are taken in one order alone. */
@@ -1375,7 +1377,10 @@ public final class Stringdrawer {
             return possible && seek(0, 0, 0, true);
         }
 
-        /** Goes to the first match, or behind the row of spots that is kept, to the next one. */
+        /**
+         * Goes to the first match, or behind the row of spots that is kept, to the next one. Those
+         * that would be repeated by the copies are passed over.
+         */
         private boolean seek(int part, int taken, int leaked, boolean behind) {
             if (part >= rule.parts || part >= MOST_BOXES) {
                 return !behind;
@@ -1384,13 +1389,41 @@ public final class Stringdrawer {
             boolean found = false;
             for (int spot = start; spot < there.size && !found; spot++) {
                 int cell = MOST_BOXES * part + spot;
-                if (canTake(cell, taken, leaked)) {
+                if (canTake(cell, taken, leaked) && !isRepeated(spot, taken)) {
                     put(spots, part, spot);
                     found = seek(part + 1, taken | at(masks, cell), leaked | at(leaks, cell),
                             behind && spot == start);
                 }
             }
             return found;
+        }
+
+        /** With the two parts exchanged, this is a match ahead, which makes a diagram like it. */
+        private boolean isRepeated(int spot, int taken) {
+            int both = at(copies, spot);
+            return both != 0 && (both & taken) == 0;
+        }
+
+        /** The number of the match at which this is, found by counting those ahead. */
+        long number() {
+            System.arraycopy(spots, 0, kept, 0, MOST_BOXES);
+            long ahead = 0;
+            int taken = 0;
+            int leaked = 0;
+            for (int part = 0; part < rule.parts; part++) {
+                int end = at(kept, part);
+                for (int spot = 0; spot < end; spot++) {
+                    int cell = MOST_BOXES * part + spot;
+                    if (canTake(cell, taken, leaked)) {
+                        ahead += countFrom(part + 1, taken | at(masks, cell),
+                                leaked | at(leaks, cell));
+                    }
+                }
+                taken |= at(masks, MOST_BOXES * part + end);
+                leaked |= at(leaks, MOST_BOXES * part + end);
+            }
+            System.arraycopy(kept, 0, spots, 0, MOST_BOXES);
+            return ahead;
         }
 
         boolean pick(int number) {
@@ -1595,6 +1628,36 @@ public final class Stringdrawer {
             return true;
         }
 
+        /**
+         * Tells for each box of a part without inputs and outputs the boxes of this part and of one
+         * that is like it, if they can be exchanged so that a box ahead comes to its place, else 0.
+         */
+        void findCopies(Diagram diagram, int[] copies) {
+            begin(diagram, diagram);
+            boolean isWired = pairEdges() && spread(0);
+            int start = queued;
+            for (int box = 0; box < diagram.size; box++) {
+                int both = 0;
+                boolean isApart = isWired && at(pairs, box) < 0;
+                for (int other = box - 1; other >= 0 && isApart && both == 0; other--) {
+                    if (meet(2 * box, 2 * other) && spread(start)) {
+                        both = pairedFrom(start);
+                    }
+                    takeBack(start);
+                }
+                put(copies, box, both);
+            }
+        }
+
+        private int pairedFrom(int start) {
+            int both = 0;
+            for (int index = start; index < queued; index++) {
+                int box = at(queue, index);
+                both |= 1 << box | 1 << at(pairs, box);
+            }
+            return both;
+        }
+
         /** Diagrams that are alike have the same code; most others have another one. */
         int summaryOf(Diagram diagram) {
             int sum = diagram.size;
@@ -1649,8 +1712,8 @@ public final class Stringdrawer {
 
     /** Looks for a shortest film: diagrams arrive in the order of the films that lead there. */
     private static final class Search {
-        private final Matching matching;
-        private final Likeness likeness;
+        private final Matching matching = new Matching();
+        private final Likeness likeness = new Likeness();
         private final Diagram[] arrived = new Diagram[MOST_COME];
         private final int[] codes = new int[MOST_COME];
         private final int[] parents = new int[MOST_COME];
@@ -1658,11 +1721,6 @@ public final class Stringdrawer {
         private final int[] matches = new int[MOST_COME];
         private final int[] lengths = new int[MOST_COME];
         private int count;
-
-        Search(Matching usedMatching, Likeness usedLikeness) {
-            matching = usedMatching;
-            likeness = usedLikeness;
-        }
 
         /** Returns which one of the diagrams that arrive is alike the goal, or -1. */
         int find(Diagram start, Diagram goal, int most, Rule[] made, int madeCount) {
@@ -1674,6 +1732,9 @@ public final class Stringdrawer {
             boolean goesOn = found < 0;
             for (int parent = 0; parent < count && goesOn; parent++) {
                 boolean isShort = at(lengths, parent) < most;
+                if (isShort) {
+                    likeness.findCopies(arrival(parent), matching.copies);
+                }
                 for (int rule = 0; rule < madeCount && isShort && goesOn; rule++) {
                     if (rule < made.length && made[rule] != null) {
                         found = goOn(parent, made[rule], rule, goal);
@@ -1694,7 +1755,7 @@ public final class Stringdrawer {
                 if (isNew()) {
                     put(parents, count, parent);
                     put(rules, count, number);
-                    put(matches, count, match);
+                    put(matches, count, (int) matching.number());
                     put(lengths, count, at(lengths, parent) + 1);
                     found = likeness.test(arrival(count), goal) ? count : -1;
                     count++;

@@ -22,6 +22,8 @@ public final class FilmsTest {
         reachTooLarge();
         reachMany();
         reachAlike();
+        reachCopies();
+        reachCrossedCopies();
         show();
         showLimits();
         sound();
@@ -384,6 +386,45 @@ public final class FilmsTest {
         int four = Draw.of(x, "(z;d)|(z;n)|(z;n)");
         Check.due("31 four steps", 4, () -> x.reach(d, four, 4));
         Check.due("33 four steps", "0/0 0/0 1/0 1/0", () -> film(x));
+    }
+
+    /** Most of the 479001600 matches only exchange parts that are alike; they need not be tried. */
+    private static void reachCopies() {
+        Stringdrawer x = new Stringdrawer();
+        int pair = Draw.of(x, "z;d");
+        int six = sixTimes(x, pair);
+        int twelve = x.beside(six, six);
+        int other = sixTimes(x, Draw.of(x, "u;d"));
+        int others = x.beside(other, other);
+        x.rule(twelve, others);
+        int taken = x.beside(sixTimes(x, x.box('z')), sixTimes(x, x.box('d')));
+        x.rule(taken, x.beside(sixTimes(x, x.box('u')), sixTimes(x, x.box('n'))));
+        Check.due("26 twelve parts", 479001600, () -> x.matches(twelve, 0));
+        Check.due("26 six and six", 479001600, () -> x.matches(twelve, 1));
+        Check.due("31 all exchanged", 1, () -> x.reach(twelve, others, 1));
+        Check.due("34 all exchanged", "0/0", () -> film(x));
+        Check.due("31 none", NO_ELEMENT, () -> x.reach(twelve, pair, 4));
+        int half = x.beside(other, sixTimes(x, Draw.of(x, "z;n")));
+        Check.due("31 six and six", 1, () -> x.reach(twelve, half, 4));
+        Check.due("34 six and six", "1/0", () -> film(x));
+        reachFirst("d:n", "(z;d)|(z;d)|(u;d)", "(z;d)|(z;d)|(u;n)", "0/2");
+        reachFirst("d:n", "(z;d)|(z;d)|(u;d)", "(z;n)|(z;d)|(u;n)", "0/0 0/1");
+        reachFirst("d|d:n|n", "(z;d)|(z;d)|(u;d)", "(z;d)|(z;n)|(u;n)", "0/1");
+        reachFirst("d|d:n|d", "(u;d)|(z;d)|(z;d)|(z;d)", "(u;d)|(z;n)|(z;d)|(z;d)", "0/3");
+    }
+
+    private static int sixTimes(Stringdrawer x, int diagram) {
+        int two = x.beside(diagram, diagram);
+        return x.beside(two, x.beside(two, two));
+    }
+
+    /** The boxes of parts that are alike may come in any order, so that not all are exchanged. */
+    private static void reachCrossedCopies() {
+        String crossed = "(z|z);(c|c);(w|x|w);(w|w|x);(d|d|d|d)";
+        reachFirst("d|d:n|n", crossed, "(z;c;(d|d))|(z;c;(n|n))", "0/2");
+        reachFirst("d|d:n|n", crossed, "(z;c;(d|n))|(z;c;(d|n))", "0/8");
+        reachFirst("d|d:n|n", crossed, "(z;c;(d|n))|(z;c;(n|d))", "0/1");
+        reachFirst("d|d:n|n", crossed, "(z;c;(n|d))|(z;c;(n|d))", "0/0");
     }
 
     private static void show() {

@@ -14,6 +14,19 @@ public final class ReachTest {
     private static final String[] PAIRS = {"2|2", "x", "w|w", "2|3", "m;c", "a;c", "a;s", "x;(2|w)",
         "(c|w);(w|a)", "(w|s);(m|w)", "(2|w);x", "3|2", "x;a;c", "(w|(c;(d|w)))", "(d;z)|2"};
 
+    /** Sides of rules with as many inputs and outputs, of parts that stand by themselves. */
+    private static final String[][] SIDES = {{"z;d", "u;d", "z;n", "e", "(z;d)|(z;d)", "z;2;d",
+        "(z;d)|(u;d)", "z;c;(d|d)"}, {"d", "n", "d|(z;d)", "c;(d|d)"}, {"z", "u", "z|(z;d)"},
+        {"d|d", "n|d", "d|n", "d|d|(z;d)", "n|n"}, {"z|z", "u|z", "z|u", "z;c", "u;c"},
+        {"z|d", "d|z", "2", "w", "u|n", "z|n"}, {"d|d|d", "d|d|n", "n|d|d"},
+        {"z|z|d", "u|z|d", "(d|z|z);x", "z|n|z"}};
+    /** Parts that are alike, in the order in which they come or in another one. */
+    private static final String[] PARTS = {"z;d", "z;d", "z;d", "u;d", "(z|z);(d|d)",
+        "(z|z);x;(d|d)", "(z|z|z);(w|x);(x|w);(d|d|d)", "z;2;d", "z;c;(d|d)", "d", "2", "2;3",
+        "(z|u);(d|d)", "(z|z);(2|w);(d|2);d", "z;n",
+        "(z|z);(c|c);(w|x|w);(w|w|x);(d|d|d|d)", "(z|z);(c|c);(w|x|w);(x|w|w);(d|d|d|d)",
+        "z;c;(d|2);d", "(z|z);a;d", "z"};
+
     private final Random random;
     private final List<String> calls = new ArrayList<>();
     private final Plain model = new Plain();
@@ -25,7 +38,7 @@ public final class ReachTest {
 
     public static void main(String[] args) {
         long first = args.length > 0 ? Long.parseLong(args[0]) : 1;
-        int many = args.length > 1 ? Integer.parseInt(args[1]) : 40;
+        int many = args.length > 1 ? Integer.parseInt(args[1]) : 300;
         for (long seed = first; seed < first + many; seed++) {
             new ReachTest(seed).run(seed);
         }
@@ -34,10 +47,13 @@ public final class ReachTest {
 
     private void run(long seed) {
         boolean pairs = random.nextInt(3) == 0;
-        String[] pieces = pairs ? PAIRS : PIECES;
+        boolean parts = random.nextInt(3) == 0;
         List<String> used = new ArrayList<>();
         int rules = 1 + random.nextInt(6);
         for (int rule = 0; rule < rules; rule++) {
+            String[] sides = SIDES[random.nextInt(SIDES.length)];
+            String[] pieces = parts ? sides : pairs ? PAIRS : PIECES;
+            used = parts ? new ArrayList<>() : used;
             String left = piece(pieces, used);
             used.add(left);
             String right = piece(pieces, used);
@@ -47,7 +63,8 @@ public final class ReachTest {
         StringBuilder text = new StringBuilder();
         int width = pairs ? 1 + random.nextInt(3) : 1 + random.nextInt(6);
         for (int column = 0; column < width; column++) {
-            text.append(column > 0 ? "|" : "").append(column(used));
+            text.append(column > 0 ? "|" : "")
+                    .append(parts ? "(" + PARTS[random.nextInt(PARTS.length)] + ")" : column(used));
         }
         String given = text.toString();
         int most = 1 + random.nextInt(4);
@@ -64,7 +81,7 @@ public final class ReachTest {
 
     /** Most often one of few, so that one rule makes what another one takes. */
     private String piece(String[] pieces, List<String> used) {
-        int reach = random.nextInt(3) == 0 ? pieces.length : 5;
+        int reach = random.nextInt(3) == 0 ? pieces.length : Math.min(pieces.length, 5);
         return !used.isEmpty() && random.nextInt(3) == 0 ? used.get(random.nextInt(used.size()))
                 : pieces[random.nextInt(reach)];
     }
