@@ -50,11 +50,11 @@ public final class Stringdrawer {
     private final Meaning meaning = new Meaning();
     private final Matching matching = new Matching();
     private final Likeness likeness = new Likeness();
-    private final Search search = new Search();
     private final Film film = new Film();
     private final Film trial = new Film();
     private final Diagram draft = new Diagram();
     private final Diagram spare = new Diagram();
+    private Search search;
     private int drawnCount;
     private int madeCount;
     private int typedCount;
@@ -369,11 +369,12 @@ public final class Stringdrawer {
         if (most < 0 || most > MOST_STEPS) {
             throw new IllegalArgumentException("0 to 4 steps");
         }
-        int found = start.hasShapeOf(goal) ? search.find(start, goal, most, made, madeCount) : -1;
+        Search used = usedSearch();
+        int found = start.hasShapeOf(goal) ? used.find(start, goal, most, made, madeCount) : -1;
         if (found < 0) {
             throw new NoSuchElementException("there is no such film");
         }
-        search.tell(found, film);
+        used.tell(found, film);
         return film.count;
     }
 
@@ -535,6 +536,14 @@ public final class Stringdrawer {
     private void prepare(int diagram, int rule) {
         Diagram asked = diagramAt(diagram);
         matching.prepare(asked, ruleAt(rule));
+    }
+
+    /** Most rooms never look for a film, so that this is made when it is needed. */
+    private Search usedSearch() {
+        if (search == null) {
+            search = new Search();
+        }
+        return search;
     }
 
     /** Leaves the matching at the first match of the rule that it answers. */
@@ -1774,7 +1783,7 @@ public final class Stringdrawer {
             return fresh;
         }
 
-        /** Most rooms never look for a film, so that these are made when they are needed. */
+        /** Most searches end early, so that these are made when they are needed. */
         private Diagram arrival(int index) {
             int place = Math.max(0, Math.min(index, MOST_COME - 1));
             if (arrived[place] == null) {
